@@ -664,8 +664,12 @@ public final class SourceBack {
         }
 
         long number(int k) {
+            long value = 0;
             int at = place(k) + 1;
-            return (long) s4(at) << 32 | s4(at + 4) & 0xFFFFFFFFL;
+            for (int i = 0; i < 8; i++) {
+                value = value << 8 | u1(at + i);
+            }
+            return value;
         }
 
         int fileName() {
@@ -2560,8 +2564,10 @@ public final class SourceBack {
         }
 
         private void sayName(int k) {
-            for (int i = 0; i < form.length(k); i++) {
-                put((int) form.told(k, 4 + i));
+            int at = form.place(k) + 2;
+            int n = form.u1(at - 1);
+            for (int i = 0; i < n; i++) {
+                put(form.u1(at + i));
             }
         }
 
@@ -3385,6 +3391,13 @@ public final class SourceBack {
         private static final int CALLED = 5;
         private static final int DONE = 6;
         private static final int CASES = 7;
+        private static final int LABELLED = 8;
+        private static final int HEAD = 9;
+        private static final int BODY = 10;
+        private static final int HEAD_END = 11;
+        private static final int THEN_END = 12;
+        private static final int GROWING = 13;
+        private static final int ENDED = 14;
 
         /** What a term is read for; PLACE: what begins a statement that no word of the language begins. */
         private static final int FOR_PLACE = 0;
@@ -3605,20 +3618,53 @@ public final class SourceBack {
                     case DONE:
                         finishTerm();
                         break;
+                    case GROWING:
+                        grow();
+                        break;
                     case CASES:
                         readCase();
                         break;
-                    default:
-                        if (tokens.type == '}') {
+                    case LABELLED:
+                        readLabelled(termAt);
+                        break;
+                    case THEN_END:
+                        closeThen();
+                        break;
+                    case STATEMENT:
+                        if (tokens.type == Tokens.BREAK_WORD || tokens.type == Tokens.NEXT_WORD) {
+                            readGoing(tokens.type == Tokens.BREAK_WORD);
+                        } else if (tokens.type == '}' && frame(SORT) == WHOLE) {
+                            finishMember(tokens.start);
+                        } else if (tokens.type == '}') {
                             closeList();
                         } else {
                             readStatement();
                         }
                         break;
+                    default:
+                        readMark();
+                        break;
                 }
             }
             if (tokens.type != Tokens.END) {
                 refuse(1, tokens.start);
+            }
+        }
+
+        /** The one sign (or two) that must come now. */
+        private void readMark() {
+            if (state == HEAD) {
+                expect('(');
+                state = TERM;
+            } else if (state == ENDED) {
+                expect(';');
+                state = STATEMENT;
+            } else {
+                if (state == HEAD_END) {
+                    expect(')');
+                }
+                expect('{');
+                state = STATEMENT;
             }
         }
 
@@ -3674,35 +3720,20 @@ public final class SourceBack {
                 case Tokens.WORD:
                     termAt = place;
                     tokens.advance();
-                    if (tokens.type == ':') {
-                        readLabelled(place);
-                    } else {
-                        purpose = FOR_PLACE;
-                        state = NAMED;
-                    }
+                    purpose = FOR_PLACE;
+                    state = tokens.type == ':' ? LABELLED : NAMED;
                     break;
                 case Tokens.IF_WORD:
-                    enter(THEN, NONE, place);
-                    readCondition();
+                    openHead(THEN, NONE, place);
                     break;
                 case Tokens.LOOP_WORD:
-                    openLoop(LOOP, NONE, place);
+                    openHead(LOOP, NONE, place);
                     break;
                 case Tokens.WHILE_WORD:
-                    openLoop(WHILE, NONE, place);
+                    openHead(WHILE, NONE, place);
                     break;
                 case Tokens.SWITCH_WORD:
-                    enter(CASE, NONE, place);
-                    tokens.advance();
-                    expect('(');
-                    purpose = FOR_CHOICE;
-                    state = TERM;
-                    break;
-                case Tokens.BREAK_WORD:
-                    readGoing(true);
-                    break;
-                case Tokens.NEXT_WORD:
-                    readGoing(false);
+                    openHead(CASE, NONE, place);
                     break;
                 default:
                     readPlain(place);
@@ -3737,27 +3768,17 @@ public final class SourceBack {
             }
         }
 
+        /** All but the ; of a statement is read. */
         private void finishStatement(int leaves) {
-            expect(';');
             setFrame(LEAVES, leaves);
-            state = STATEMENT;
+            state = ENDED;
         }
 
-        private void readCondition() {
-            tokens.advance();
-            expect('(');
-            purpose = FOR_CONDITION;
-            state = TERM;
-        }
-
-        private void openLoop(int sort, int label, int place) {
+        private void openHead(int sort, int label, int place) {
             enter(sort, label, place);
-            if (sort == WHILE) {
-                readCondition();
-            } else {
-                tokens.advance();
-                expect('{');
-            }
+            tokens.advance();
+            purpose = sort == CASE ? FOR_CHOICE : FOR_CONDITION;
+            state = sort == LOOP ? BODY : HEAD;
         }
 
         /** Behind a label: its : is looked at. */
@@ -3770,12 +3791,12 @@ public final class SourceBack {
             }
             tokens.advance();
             if (tokens.type == Tokens.LOOP_WORD) {
-                openLoop(LOOP, label, label);
+                openHead(LOOP, label, label);
             } else if (tokens.type == Tokens.WHILE_WORD) {
-                openLoop(WHILE, label, label);
+                openHead(WHILE, label, label);
             } else {
-                expect('{');
                 enter(BLOCK, label, label);
+                state = BODY;
             }
         }
 
@@ -3862,22 +3883,17 @@ public final class SourceBack {
         }
 
         private void closeList() {
-            int place = tokens.start;
             boolean leaves = frame(LEAVES) != 0;
             boolean all = leaves && frame(ALL_LEAVE) != 0;
             int begin = frame(BEGIN);
             int behind = frame(BEHIND_ALL);
             int sort = frame(SORT);
-            if (sort == WHOLE) {
-                finishMember(place, leaves);
-                return;
-            }
             if (!leaves && (sort == LOOP || sort == WHILE || sort == CASE)) {
                 maker.add(JUMP, sort == CASE ? behind : begin, 0);
             }
             tokens.advance();
             if (sort == THEN) {
-                closeThen(leaves);
+                state = THEN_END;
             } else if (sort == CASE) {
                 setFrame(ALL_LEAVE, all ? 1 : 0);
                 state = CASES;
@@ -3891,7 +3907,9 @@ public final class SourceBack {
             }
         }
 
-        private void closeThen(boolean leaves) {
+        /** Behind the } of an if. */
+        private void closeThen() {
+            boolean leaves = frame(LEAVES) != 0;
             if (tokens.type != Tokens.ELSE_WORD) {
                 maker.bind(frame(BEGIN));
                 leave(false);
@@ -3909,10 +3927,12 @@ public final class SourceBack {
                 }
                 maker.bind(frame(BEGIN));
             }
+            state = STATEMENT;
         }
 
-        private void finishMember(int place, boolean leaves) {
-            if (!leaves) {
+        /** At the last }. */
+        private void finishMember(int place) {
+            if (frame(LEAVES) == 0) {
                 if (result != KIND_V) {
                     refuse(10, place);
                 }
@@ -4184,7 +4204,8 @@ public final class SourceBack {
                 finishStatement(0);
             } else if (termIs == VARIABLE && tokens.type == Tokens.GROWS) {
                 need(KIND_N);
-                grow(maker.takeBack());
+                subject = maker.takeBack();
+                state = GROWING;
             } else if (set && (termIs == VARIABLE || termIs == OF_FIELD || termIs == PLACED)) {
                 purpose = termIs == VARIABLE ? FOR_VARIABLE : termIs == OF_FIELD ? FOR_FIELD : FOR_ELEMENT;
                 subject = termIs == PLACED ? 0 : maker.takeBack();
@@ -4197,16 +4218,17 @@ public final class SourceBack {
             }
         }
 
-        private void grow(int variable) {
+        /** At the += of a variable. */
+        private void grow() {
             tokens.advance();
             long value = readNumber(false);
             if (value >= -128 && value <= 127) {
-                maker.add(6, variable, (int) value);
+                maker.add(6, subject, (int) value);
             } else {
-                maker.add(4, variable, 0);
+                maker.add(4, subject, 0);
                 maker.addNumber(value);
                 maker.add(9, 0, 0);
-                maker.add(5, variable, 0);
+                maker.add(5, subject, 0);
             }
             finishStatement(0);
         }
@@ -4237,9 +4259,7 @@ public final class SourceBack {
                 op += array ? 12 : 6;
             }
             maker.add(op, frame(frame(SORT) == WHILE ? BEHIND_ALL : BEGIN), 0);
-            expect(')');
-            expect('{');
-            state = STATEMENT;
+            state = HEAD_END;
         }
     }
 

@@ -1869,7 +1869,7 @@ public final class SourceBack {
 
         /** The statements of a list come in behind one of another list (0: ahead of all); the last of them. */
         private int insert(int into, int before, int from) {
-            if (isEmpty(from)) {
+            if (a(from) == 0) {
                 return before;
             }
             int behind = before == 0 ? a(into) : next(before);

@@ -459,18 +459,7 @@ public final class SourceBack {
                 if (!flow.findsItsEntries()) {
                     continue;
                 }
-                int root = tree.build(flow, blocks);
-                if (root == 0) {
-                    continue;
-                }
-                if (blocks.knotted) {
-                    tree.buildKnotted(root);
-                }
-                nodes.polish(root);
-                printer.begin(flow, tree, form.memberEntry(m));
-                printer.lines(root, 1);
-                printer.end();
-                if (printer.length > SIGNS_MOST) {
+                if (!write(form.memberEntry(m)) || printer.length > SIGNS_MOST) {
                     continue;
                 }
                 byte[] signs = Arrays.copyOf(printer.out, printer.length);
@@ -505,17 +494,22 @@ public final class SourceBack {
             return;
         }
         blocks.find(flow);
-        int root = tree.build(flow, blocks);
-        if (root != 0) {
-            if (blocks.knotted) {
-                tree.buildKnotted(root);
-            }
-            nodes.polish(root);
-            printer.begin(flow, tree, form.memberEntry(m));
-            printer.lines(root, 1);
-            printer.end();
-            form.again[m] = printer.holds(signs) ? 1 : 0;
+        if (write(form.memberEntry(m)) && printer.holds(signs)) {
+            form.again[m] = 1;
         }
+    }
+
+    /** Prints the member that flow and blocks tell of; false if its tree is too deep. */
+    private boolean write(int entry) {
+        int root = blocks.knotted ? tree.buildKnotted(flow, blocks) : tree.build(flow, blocks);
+        if (root == 0) {
+            return false;
+        }
+        nodes.polish(root);
+        printer.begin(flow, tree, entry);
+        printer.lines(root, 1);
+        printer.end();
+        return true;
     }
 
     /** Asks that the texts of all members have been looked for. */
@@ -1848,6 +1842,14 @@ public final class SourceBack {
             row[WIDTH * list + 2] = node;
         }
 
+        /** How tightly a term holds together; 8 is the most. */
+        int rank(int node) {
+            int at = WIDTH * node;
+            int op = row[at + 3] - 9;
+            boolean pair = row[at] == PAIR && op >= 0 && op < RANKS.length;
+            return pair ? RANKS[op] : row[at] == MINUS ? 7 : 8;
+        }
+
         boolean isEmpty(int list) {
             return a(list) == 0;
         }
@@ -1869,20 +1871,19 @@ public final class SourceBack {
 
         /** The statements of a list come in behind one of another list (0: ahead of all); the last of them. */
         private int insert(int into, int before, int from) {
-            if (a(from) == 0) {
+            int first = row[WIDTH * from + 1];
+            int last = row[WIDTH * from + 2];
+            if (first == 0) {
                 return before;
             }
-            int behind = before == 0 ? a(into) : next(before);
-            setNext(b(from), behind);
-            if (before == 0) {
-                row[WIDTH * into + 1] = a(from);
-            } else {
-                setNext(before, a(from));
-            }
+            int link = before == 0 ? WIDTH * into + 1 : WIDTH * before + 4;
+            int behind = row[link];
+            row[link] = first;
+            row[WIDTH * last + 4] = behind;
             if (behind == 0) {
-                row[WIDTH * into + 2] = b(from);
+                row[WIDTH * into + 2] = last;
             }
-            return b(from);
+            return last;
         }
 
         private void remove(int list, int before, int node) {
@@ -2105,8 +2106,7 @@ public final class SourceBack {
             return blocks.knotted;
         }
 
-        /** The list of the member's statements, 0 if it is too deep. */
-        int build(Flow from, Blocks of) {
+        private void begin(Flow from, Blocks of) {
             flow = from;
             blocks = of;
             makeRoom();
@@ -2118,9 +2118,14 @@ public final class SourceBack {
             arrayPlace = false;
             tooDeep = false;
             waiting = 0;
+        }
+
+        /** The list of a plain member's statements, 0 if it is too deep. */
+        int build(Flow from, Blocks of) {
+            begin(from, of);
             int root = nodes.make(Nodes.LIST, 0, 0, 0);
             later(root, 0, 0);
-            for (int n = 0; waiting > 0 && !tooDeep && !blocks.knotted && n < blocks.count; n++) {
+            for (int n = 0; waiting > 0 && !tooDeep && n < blocks.count; n++) {
                 waiting--;
                 int x = work[3 * waiting + 1];
                 int depth = shape(work[3 * waiting], x, work[3 * waiting + 2]);
@@ -2182,8 +2187,10 @@ public final class SourceBack {
             return deeper;
         }
 
-        /** Fills the root of a knotted member, which build has begun. */
-        void buildKnotted(int root) {
+        /** The list of a knotted member's statements. */
+        int buildKnotted(Flow from, Blocks of) {
+            begin(from, of);
+            int root = nodes.make(Nodes.LIST, 0, 0, 0);
             int body = nodes.make(Nodes.LIST, 0, 0, 0);
             dispatcher = holder(Nodes.LOOP, 0, body);
             int choice = holder(Nodes.CHOICE, variable(AT, 0), nodes.list(dispatcher));
@@ -2208,6 +2215,7 @@ public final class SourceBack {
             }
             set(variable(AT, 0), zero(N));
             nodes.append(root, dispatcher);
+            return root;
         }
 
         private int zero(int family) {
@@ -2240,14 +2248,6 @@ public final class SourceBack {
             nodes.append(list, nodes.make(Nodes.SET, target, value, 0));
         }
 
-        private int temporary(int value, boolean array) {
-            int made = nodes.make(Nodes.VARIABLE, array ? U : T, array ? arrayTemporaries : numberTemporaries, 0);
-            arrayTemporaries += array ? 1 : 0;
-            numberTemporaries += array ? 0 : 1;
-            nodes.append(list, nodes.make(Nodes.SET, made, value, 0));
-            return made;
-        }
-
         private void push(int term) {
             if (deep < pile.length) {
                 pile[deep] = term;
@@ -2269,7 +2269,13 @@ public final class SourceBack {
                 int kind = nodes.sort(pile[i]);
                 boolean known = kind == Nodes.VARIABLE && (nodes.a(pile[i]) == T || nodes.a(pile[i]) == U);
                 if (kind > Nodes.NO_ARRAY && !known) {
-                    pile[i] = temporary(pile[i], flow.pileKind(act, i) == KIND_A);
+                    boolean array = flow.pileKind(act, i) == KIND_A;
+                    int number = array ? arrayTemporaries : numberTemporaries;
+                    int made = nodes.make(Nodes.VARIABLE, array ? U : T, number, 0);
+                    nodes.append(list, nodes.make(Nodes.SET, made, pile[i], 0));
+                    pile[i] = made;
+                    arrayTemporaries += array ? 1 : 0;
+                    numberTemporaries += array ? 0 : 1;
                 }
             }
         }
@@ -2280,15 +2286,16 @@ public final class SourceBack {
             int first = blocks.firstAct(x);
             int last = blocks.lastAct(x);
             if (flow.deep[first] > 0) {
-                boolean array = flow.pileKind(first, 0) == KIND_A;
-                pile[0] = temporary(variable(array ? Q : S, 0), array);
-                deep = 1;
+                push(variable(flow.pileKind(first, 0) == KIND_A ? Q : S, 0));
+                putOut(first, 1);
             }
             for (int i = first; i <= last; i++) {
                 int op = flow.op(i);
                 if (op >= 21 && op <= 23) {
                     turn(i, op);
-                } else if (op == 5 || op == 6 || op == 8 || op == 20 || op == 26 || op >= CALL) {
+                } else if (op == CALL) {
+                    addCall(i, flow.u2(i, 1));
+                } else if (op == 5 || op == 6 || op == 8 || op == 20 || op == 26 || op > CALL) {
                     addStatement(i, op);
                 } else if (op > 0 && op < EARLIEST_IF) {
                     pushTerm(i, op);
@@ -2334,10 +2341,6 @@ public final class SourceBack {
         }
 
         private void addStatement(int i, int op) {
-            if (op == CALL) {
-                addCall(i, flow.u2(i, 1));
-                return;
-            }
             int taken = op == 26 ? 3 : op == 6 || op == COME_BACK ? 0 : 1;
             putOut(i, deep - taken);
             int last = taken > 0 ? pop() : 0;
@@ -2394,7 +2397,11 @@ public final class SourceBack {
         /** What lies there, with the kind that it has ahead of an act, goes to its place. */
         private void setPlace(int act) {
             if (deep > 0) {
-                set(variable(flow.pileKind(act, 0) == KIND_A ? Q : S, 0), pile[0]);
+                boolean array = flow.pileKind(act, 0) == KIND_A;
+                numberPlace = numberPlace || !array;
+                arrayPlace = arrayPlace || array;
+                int place = nodes.make(Nodes.VARIABLE, array ? Q : S, 0, 0);
+                nodes.append(list, nodes.make(Nodes.SET, place, pile[0], 0));
                 deep = 0;
             }
         }
@@ -2446,7 +2453,8 @@ public final class SourceBack {
 
         private void go(int x, int y, int into, int depth) {
             if (blocks.knotted) {
-                nodes.append(into, nodes.make(Nodes.SET, variable(AT, 0), nodes.make(Nodes.SMALL, y, 0, 0), 0));
+                int at = nodes.make(Nodes.VARIABLE, AT, 0, 0);
+                nodes.append(into, nodes.make(Nodes.SET, at, nodes.make(Nodes.SMALL, y, 0, 0), 0));
                 nodes.append(into, nodes.make(Nodes.NEXT, dispatcher, 0, 0));
                 nodes.addGoer(dispatcher, 1);
             } else if (y <= x) {
@@ -2465,14 +2473,16 @@ public final class SourceBack {
     private static final class Printer {
         private static final String FAMILIES = "nrtusqa";
         private static final int COMMA = -300;
-        private static final int OPERATOR = -400;
+        private static final int OPERATORS = -400;
+        private static final int NAMES = -1000;
 
         byte[] out = new byte[128];
         int length;
         private final Nodes nodes;
         private Form form;
         private Flow flow;
-        /** What is still to be written, the next on top: signs below 0, else twice a node, one more in brackets. */
+        /** What is still to be written of a term, the next on top: signs and names below 0, else twice a node,
+         * and one more in brackets. */
         private int[] stack = new int[16];
         private int top;
 
@@ -2722,22 +2732,41 @@ public final class SourceBack {
                 top--;
                 int item = stack[top];
                 int node = item / 2;
-                if (item <= OPERATOR) {
-                    sayOperator(OPERATOR - item);
+                int sort = item < 0 ? 0 : nodes.sort(node);
+                if (item <= NAMES) {
+                    sayName(NAMES - item);
+                } else if (item <= OPERATORS) {
+                    sayOperator(OPERATORS - item);
                 } else if (item == COMMA) {
                     say(", ");
                 } else if (item < 0) {
                     put(-item);
                 } else if (item % 2 == 1) {
+                    put('(');
                     push(-')');
                     push(2 * node);
-                    put('(');
-                } else if (nodes.sort(node) == Nodes.CALL_TERM) {
-                    pushCall(node);
-                } else if (nodes.sort(node) >= Nodes.MAKE) {
-                    pushOperation(node, nodes.sort(node));
+                } else if (sort == Nodes.FIELD_TERM || sort == Nodes.CALL_TERM) {
+                    if (sort == Nodes.CALL_TERM) {
+                        pushArguments(node);
+                    }
+                    pushNames(nodes.a(node));
+                } else if (sort == Nodes.MAKE || sort == Nodes.SIZE) {
+                    say(sort == Nodes.MAKE ? "make(" : "size(");
+                    push(-')');
+                    push(2 * nodes.a(node));
+                } else if (sort > Nodes.SIZE) {
+                    pushOperation(node, sort);
+                } else if (sort == Nodes.NO_ARRAY) {
+                    say("none");
+                } else if (sort == Nodes.VARIABLE) {
+                    put(FAMILIES.charAt(nodes.a(node)));
+                    if (nodes.a(node) == Tree.AT) {
+                        put('t');
+                    } else {
+                        sayNumber(nodes.b(node));
+                    }
                 } else {
-                    sayNode(node);
+                    sayNumber(sort == Nodes.SMALL ? nodes.a(node) : form.number(nodes.a(node)));
                 }
             }
         }
@@ -2751,41 +2780,14 @@ public final class SourceBack {
             put(' ');
         }
 
-        private void sayNode(int node) {
-            int a = nodes.a(node);
-            switch (nodes.sort(node)) {
-                case Nodes.SMALL:
-                    sayNumber(a);
-                    break;
-                case Nodes.CONSTANT:
-                    sayNumber(form.number(a));
-                    break;
-                case Nodes.NO_ARRAY:
-                    say("none");
-                    break;
-                case Nodes.VARIABLE:
-                    put(FAMILIES.charAt(a));
-                    if (a == Tree.AT) {
-                        put('t');
-                    } else {
-                        sayNumber(nodes.b(node));
-                    }
-                    break;
-                case Nodes.FIELD_TERM:
-                    sayName(form.owner(a));
-                    put('.');
-                    sayName(form.nameOf(a));
-                    break;
-                default:
-                    break;
-            }
+        private void pushNames(int entry) {
+            int at = form.place(entry);
+            push(NAMES - form.u2(at + 3));
+            push(-'.');
+            push(NAMES - form.u2(at + 1));
         }
 
-        private void pushCall(int node) {
-            sayName(form.owner(nodes.a(node)));
-            put('.');
-            sayName(form.nameOf(nodes.a(node)));
-            put('(');
+        private void pushArguments(int node) {
             push(-')');
             for (int i = nodes.c(node) - 1; i >= 0; i--) {
                 int argument = nodes.b(node);
@@ -2797,35 +2799,28 @@ public final class SourceBack {
                     push(COMMA);
                 }
             }
+            push(-'(');
         }
 
-        private void pushOperation(int node, int kind) {
+        private void pushOperation(int node, int sort) {
             int a = nodes.a(node);
             int b = nodes.b(node);
-            if (kind == Nodes.MAKE || kind == Nodes.SIZE) {
-                say(kind == Nodes.MAKE ? "make(" : "size(");
-                push(-')');
-                push(2 * a);
-            } else if (kind == Nodes.INDEX) {
+            int rank = nodes.rank(a);
+            if (sort == Nodes.INDEX) {
                 push(-']');
                 push(2 * b);
                 push(-'[');
-                push(2 * a + (rank(a) < 8 ? 1 : 0));
-            } else if (kind == Nodes.MINUS) {
+                push(2 * a + (rank < 8 ? 1 : 0));
+            } else if (sort == Nodes.MINUS) {
                 put('-');
                 boolean number = nodes.sort(a) == Nodes.SMALL || nodes.sort(a) == Nodes.CONSTANT;
-                push(2 * a + (rank(a) <= 7 || number ? 1 : 0));
+                push(2 * a + (rank <= 7 || number ? 1 : 0));
             } else {
-                int rank = rank(node);
-                push(2 * b + (rank(b) <= rank ? 1 : 0));
-                push(OPERATOR - nodes.c(node));
-                push(2 * a + (rank(a) < rank ? 1 : 0));
+                int own = nodes.rank(node);
+                push(2 * b + (nodes.rank(b) <= own ? 1 : 0));
+                push(OPERATORS - nodes.c(node));
+                push(2 * a + (rank < own ? 1 : 0));
             }
-        }
-
-        private int rank(int node) {
-            int kind = nodes.sort(node);
-            return kind == Nodes.PAIR ? RANKS[nodes.c(node) - 9] : kind == Nodes.MINUS ? 7 : 8;
         }
     }
 

@@ -1826,11 +1826,6 @@ public final class SourceBack {
             row[WIDTH * node + 7] += more;
         }
 
-        /** The condition of an if or while: which of == != < <= > >=. */
-        int condition(int node) {
-            return a(node);
-        }
-
         /** A list's first statement is its a, the last its b. */
         void append(int list, int node) {
             int last = row[WIDTH * list + 2];
@@ -2001,7 +1996,7 @@ public final class SourceBack {
             int list = list(s);
             setList(s, other(s));
             setOther(s, list);
-            row[WIDTH * s + 1] = OPPOSITE[condition(s)];
+            row[WIDTH * s + 1] = OPPOSITE[a(s)];
         }
 
         /** What the else of s holds stands behind s. */
@@ -2030,7 +2025,7 @@ public final class SourceBack {
             int at = WIDTH * loop;
             row[at] = WHILE;
             row[at + 6] = a(loop);
-            row[at + 1] = OPPOSITE[condition(s)];
+            row[at + 1] = OPPOSITE[a(s)];
             row[at + 2] = b(s);
             row[at + 3] = c(s);
         }
@@ -2684,7 +2679,7 @@ public final class SourceBack {
             } else if (kind == Nodes.IF || kind == Nodes.WHILE) {
                 say(kind == Nodes.IF ? "if (" : "while (");
                 sayTerm(nodes.b(s));
-                sayCondition(nodes.condition(s));
+                sayCondition(nodes.a(s));
                 sayTerm(nodes.c(s));
                 put(')');
             }

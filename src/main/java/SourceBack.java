@@ -453,19 +453,14 @@ public final class SourceBack {
     /** Texts are made when they are first asked for; calls stay shallow as all steps begin here. */
     private void findTexts(Form form, int from, int to) {
         for (int m = from; m < to; m++) {
-            if (form.textKnown[m] == 0) {
-                form.textKnown[m] = 1;
-                look(form, m);
-                if (!flow.findsItsEntries()) {
-                    continue;
-                }
-                if (!write(form.memberEntry(m)) || printer.length > SIGNS_MOST) {
-                    continue;
-                }
+            if (form.textKnown[m] != 0) {
+                continue;
+            }
+            form.textKnown[m] = 1;
+            look(form, m);
+            if (flow.findsItsEntries() && write(form.memberEntry(m)) && printer.length <= SIGNS_MOST) {
                 byte[] signs = Arrays.copyOf(printer.out, printer.length);
-                if (judge.read(form, signs) == 0) {
-                    form.texts[m] = signs;
-                }
+                form.texts[m] = judge.read(form, signs) == 0 ? signs : null;
             }
         }
     }
@@ -763,10 +758,10 @@ public final class SourceBack {
 
         /** The code of this form from a place on, and a code that asks another form's pool, act by act. */
         boolean sameActs(int from, int length, Form other, byte[] code, int start) {
-            int size;
-            for (int p = 0; p < length; p += size) {
+            int p = 0;
+            for (int n = 0; p < length && n < length; n++) {
                 int op = u1(from + p);
-                size = sizeAt(bytes, from + p);
+                int size = sizeAt(bytes, from + p);
                 if (start + p + size > code.length || p + size > length || op != (code[start + p] & 255)) {
                     return false;
                 }
@@ -782,6 +777,7 @@ public final class SourceBack {
                         }
                     }
                 }
+                p += size;
             }
             return true;
         }
@@ -1196,12 +1192,12 @@ public final class SourceBack {
                 pile = new long[room];
             }
             Arrays.fill(index, 0, length + 1, NONE);
-            acts = 0;
-            for (int p = 0; p < length; p += Form.sizeAt(code, base + p)) {
+            int p = 0;
+            for (acts = 0; p < length && acts < length; acts++) {
                 index[p] = acts;
                 at[acts] = p;
                 deep[acts] = NONE;
-                acts++;
+                p += Form.sizeAt(code, base + p);
             }
         }
 
@@ -1332,10 +1328,11 @@ public final class SourceBack {
             int taken = takes(i, op);
             int n = 0;
             boolean kinds = true;
-            for (int left = taken; left != 0; left >>>= 2) {
+            for (int shift = 0; shift < 16 && taken >>> shift != 0; shift += 2) {
                 n++;
+                int asked = taken >>> shift & 3;
                 int kind = nowDeep < n ? 0 : (int) (nowPile >>> (nowDeep - n)) & 1;
-                kinds = kinds && ((left & 3) == 3 || (left & 3) == kind + 1);
+                kinds = kinds && (asked == 3 || asked == kind + 1);
             }
             if (nowDeep < n) {
                 return 17;
@@ -3110,9 +3107,9 @@ public final class SourceBack {
                 if (op == CALL) {
                     deep += (form.result(sign) == KIND_V ? 0 : 1) - form.length(sign);
                 } else {
-                    int taken = op == 8 ? 3 : TAKES[op];
+                    int taken = op == 8 ? 1 : TAKES[op];
                     deep += PUTS[op] == 0 ? 0 : 1;
-                    for (; taken != 0; taken >>>= 2) {
+                    for (int shift = 0; shift < 16 && taken >>> shift != 0; shift += 2) {
                         deep--;
                     }
                 }
@@ -4334,8 +4331,10 @@ public final class SourceBack {
 
         private int nextAct(int f, int m, int place) {
             Form form = forms[f];
+            int p = form.codeAt(m);
             int n = 0;
-            for (int p = form.codeAt(m); p < place; p += Form.sizeAt(form.bytes, p)) {
+            while (p < place && n < CODE_MOST) {
+                p += Form.sizeAt(form.bytes, p);
                 n++;
             }
             return n;

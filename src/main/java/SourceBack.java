@@ -13,6 +13,10 @@ public final class SourceBack {
     private static final int DEEPEST = 60;
     private static final int PILE_MOST = 60;
     private static final int CODE_MOST = 4000;
+    private static final int LOCALS_MOST = 60;
+    private static final int PARAMETERS_MOST = 8;
+    private static final int KEYS_MOST = 40;
+    private static final int MEMBERS_MOST = 100;
     /** A bound for loops that the document bounds only by the length of what is read. */
     private static final int FAR = 1000000;
 
@@ -899,7 +903,7 @@ public final class SourceBack {
             if (fault == 0) {
                 readFields();
             }
-            int members = bounded(2, 4, 0, 100);
+            int members = bounded(2, 4, 0, MEMBERS_MOST);
             if (fault == 0) {
                 form.setMembers(members);
             }
@@ -997,7 +1001,7 @@ public final class SourceBack {
         }
 
         private void readSign() {
-            int n = bounded(1, 7, 0, 8);
+            int n = bounded(1, 7, 0, PARAMETERS_MOST);
             for (int i = 0; fault == 0 && i < n; i++) {
                 readKind(false);
             }
@@ -1042,7 +1046,7 @@ public final class SourceBack {
         private void readFields() {
             form.nameAt = at;
             asking(NAME);
-            int n = bounded(2, 4, 0, 100);
+            int n = bounded(2, 4, 0, MEMBERS_MOST);
             if (fault != 0) {
                 return;
             }
@@ -1075,7 +1079,7 @@ public final class SourceBack {
                     tell(11, place);
                 }
             }
-            int locals = bounded(1, 4, fault == 0 ? form.length(form.signOf(k)) : 0, 60);
+            int locals = bounded(1, 4, fault == 0 ? form.length(form.signOf(k)) : 0, LOCALS_MOST);
             bounded(1, 4, 0, PILE_MOST);
             int end = bounded(2, 4, 1, CODE_MOST) + at;
             for (int i = 0; fault == 0 && at < end && i < CODE_MOST; i++) {
@@ -1119,7 +1123,7 @@ public final class SourceBack {
                 tell(13, at);
             } else if (op == SWITCH) {
                 int n = form.u1(at + 3);
-                if (n > 40) {
+                if (n > KEYS_MOST) {
                     tell(14, at);
                 }
                 for (int i = 1; i < n; i++) {
@@ -3423,8 +3427,10 @@ public final class SourceBack {
         private static final int BEHIND_ALL = 3;
         private static final int LEAVES = 4;
         private static final int ALL_LEAVE = 5;
+        /** Of a block: whether a break goes to it; of an else: whether it has statements; of a switch: its number. */
         private static final int MORE = 6;
-        private static final int FRAME = 7;
+        private static final int KEYS = 7;
+        private static final int FRAME = 8;
 
         private static final int WHOLE = 0;
         private static final int THEN = 1;
@@ -3451,7 +3457,7 @@ public final class SourceBack {
         private final int[] frames = new int[FRAME * (DEEPEST + 1)];
         private int open;
         /** Of variables: twice the place where the name was told first, 1 more for an array. */
-        private final int[] told = new int[60];
+        private final int[] told = new int[LOCALS_MOST];
         private int variables;
         private int parameters;
         private int result;
@@ -3517,9 +3523,9 @@ public final class SourceBack {
             expect(Tokens.WORD);
             expect('(');
             boolean more = tokens.type != ')';
-            while (more && variables <= 8) {
+            while (more && variables <= PARAMETERS_MOST) {
                 int kind = readKind();
-                if (variables == 8) {
+                if (variables == PARAMETERS_MOST) {
                     refuse(9, tokens.start);
                 }
                 tokens.advance();
@@ -3668,6 +3674,7 @@ public final class SourceBack {
             frames[at + LEAVES] = 0;
             frames[at + ALL_LEAVE] = 1;
             frames[at + MORE] = 0;
+            frames[at + KEYS] = 0;
             open++;
             maker.bind(frames[at + BEGIN]);
         }
@@ -3840,18 +3847,17 @@ public final class SourceBack {
                 int label = maker.newLabel();
                 maker.bind(label);
                 boolean more = true;
-                for (int n = 0; more && n <= 40; n++) {
+                for (int n = 0; more && n <= KEYS_MOST; n++) {
                     int place = tokens.start;
                     int key = (int) readNumber(true);
-                    if (maker.hasKey(subjectOfChoice(), key)) {
+                    if (maker.hasKey(frame(MORE), key)) {
                         refuse(7, place);
                     }
-                    int count = frame(MORE) % 64;
-                    if (count == 40) {
+                    if (frame(KEYS) == KEYS_MOST) {
                         refuse(9, place);
                     }
-                    maker.addKey(subjectOfChoice(), key, label);
-                    setFrame(MORE, frame(MORE) + 1);
+                    maker.addKey(frame(MORE), key, label);
+                    setFrame(KEYS, frame(KEYS) + 1);
                     more = tokens.type == ',';
                     if (more) {
                         tokens.advance();
@@ -3862,11 +3868,6 @@ public final class SourceBack {
             expect('{');
             setFrame(LEAVES, 0);
             state = STATEMENT;
-        }
-
-        /** A switch keeps its id and how many keys it has in one number. */
-        private int subjectOfChoice() {
-            return frame(MORE) / 64;
         }
 
         private void closeList() {
@@ -4085,7 +4086,7 @@ public final class SourceBack {
             int place = topIs(1);
             if (sort == CALLING) {
                 int count = topIs(3);
-                if (count < 8) {
+                if (count < PARAMETERS_MOST) {
                     stack[WIDTH * (top - 1) + 4] |= termKind << count;
                 }
                 stack[WIDTH * (top - 1) + 3]++;
@@ -4174,8 +4175,8 @@ public final class SourceBack {
                     need(KIND_N);
                     expect(')');
                     expect('{');
-                    setFrame(MORE, 64 * maker.newSwitch());
-                    maker.add(SWITCH, subjectOfChoice(), frame(BEGIN));
+                    setFrame(MORE, maker.newSwitch());
+                    maker.add(SWITCH, frame(MORE), frame(BEGIN));
                     state = CASES;
                     break;
                 default:

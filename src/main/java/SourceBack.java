@@ -2065,6 +2065,7 @@ public final class SourceBack {
 
     /** Makes a tree of statements of a member's blocks. */
     private static final class Tree {
+        /** Families of variables: locals as N and as A, temporaries of both kinds, their places, and at. */
         static final int N = 0;
         static final int R = 1;
         static final int T = 2;
@@ -2133,6 +2134,8 @@ public final class SourceBack {
 
         private void makeRoom() {
             int n = blocks.count;
+            // An act makes a term, a temporary with its statement, an argument, a statement and its target at most;
+            // a block its loop, block, if or switch with their lists, and what its value comes from and goes to.
             nodes.begin(6 * flow.acts + 18 * n + 7 * blocks.allWays() + 3 * Math.min(flow.acts, 120) + 20);
             if (blockNode.length < n) {
                 int room = Math.max(n, 2 * blockNode.length);

@@ -1,9 +1,8 @@
 /** Promise 12: judge, with every error and its place. */
 public final class JudgeTest {
-    private static SourceBack x;
+    private static byte[] file;
 
     public static void main(String[] args) {
-        x = new SourceBack();
         Kit kit = new Kit("F");
         kit.ownField("f", 'N');
         kit.ownField("g", 'A');
@@ -13,7 +12,7 @@ public final class JudgeTest {
         kit.own("m", "NAN", 2, 2, Kit.code().op(4, 0).op(45));
         kit.own("v", "V", 0, 0, Kit.code().op(46));
         kit.own("many", "NNNNNNNNN", 8, 1, Kit.code().op(4, 0).op(45));
-        Kit.take(x, kit.bytes());
+        file = kit.bytes();
         good();
         tokens();
         names();
@@ -27,10 +26,17 @@ public final class JudgeTest {
         Due.end();
     }
 
+    /** Each text is judged by a new object, as none is promised for more than 512 calls. */
+    private static int judged(String text) {
+        SourceBack x = new SourceBack();
+        Kit.take(x, file);
+        return Kit.judge(x, 0, text);
+    }
+
     /** A # in the text marks the place of the error, and is taken out. */
     private static void error(int error, String text) {
         int place = text.indexOf('#');
-        Due.same(text, Kit.judge(x, 0, text.substring(0, place) + text.substring(place + 1)), error + 16 * place);
+        Due.same(text, judged(text.substring(0, place) + text.substring(place + 1)), error + 16 * place);
     }
 
     /** Within a member with a number n, an array r, and a result that is a number. */
@@ -39,13 +45,13 @@ public final class JudgeTest {
     }
 
     private static void fine(String text) {
-        Due.same(text, Kit.judge(x, 0, "number k(number n, array r) {" + text + "give n;}"), 0);
+        Due.same(text, judged("number k(number n, array r) {" + text + "give n;}"), 0);
     }
 
     private static void good() {
-        Due.same("void", Kit.judge(x, 0, "void k(){}"), 0);
-        Due.same("blanks", Kit.judge(x, 0, " \n void\nk ( ) { end ; } \n"), 0);
-        Due.same("no blanks", Kit.judge(x, 0, "number k(number a,array b){number c,d;array e;c=a+1;d=c;e=b;give-a*-5--c;}"), 0);
+        Due.same("void", judged("void k(){}"), 0);
+        Due.same("blanks", judged(" \n void\nk ( ) { end ; } \n"), 0);
+        Due.same("no blanks", judged("number k(number a,array b){number c,d;array e;c=a+1;d=c;e=b;give-a*-5--c;}"), 0);
         fine("n=1;n+=1;F.f=n;F.g=r;r[n]=1;F.v();drop r;G.x[0]=1;");
         fine("if(n==0){}if(n==0){n=1;}else{}loop{give 1;}while(r!=none){}l:loop{next l;}l:while(1<2){next l;}b:{break b;}");
         fine("switch(n){default:{}}switch(n){case 1,-5:{}case 2:{}default:{}}");
@@ -53,7 +59,7 @@ public final class JudgeTest {
         fine("give 1; n = 2; fail 3; ");
         fine("if (none == (none)) {} if (n == -0) {} if ((n) >= (0)) {} if (0 < 1) {} ");
         fine("n = 1 - -1 + - 1 * -(-1) - --1;");
-        Due.same("an array", Kit.judge(x, 0, "array k(){array none_;none_=none;give none_;}"), 0);
+        Due.same("an array", judged("array k(){array none_;none_=none;give none_;}"), 0);
     }
 
     private static void tokens() {
@@ -79,7 +85,7 @@ public final class JudgeTest {
         error(1, "void k(){#\t}");
         error(1, "void k(){#!}");
         error(1, "void #abcdefghijabcdefghijabcdefghijk(){}");
-        Due.same("a word of 30", Kit.judge(x, 0, "void abcdefghijabcdefghijabcdefghij(){}"), 0);
+        Due.same("a word of 30", judged("void abcdefghijabcdefghijabcdefghij(){}"), 0);
         in(1, "#;");
         in(1, "#{}");
         in(1, "#else {}");
@@ -278,7 +284,7 @@ public final class JudgeTest {
         for (int i = 1; i < 8; i++) {
             eight.append(", number a").append(i);
         }
-        Due.same("8 parameters", Kit.judge(x, 0, eight + "){give a0;}"), 0);
+        Due.same("8 parameters", judged(eight + "){give a0;}"), 0);
         error(9, eight + ", #number a8");
         error(9, eight + ", #array");
         error(1, eight + ", #a");
@@ -286,7 +292,7 @@ public final class JudgeTest {
         for (int i = 2; i < 60; i++) {
             sixty.append(", a").append(i);
         }
-        Due.same("60 variables", Kit.judge(x, 0, sixty + ";give a0;}"), 0);
+        Due.same("60 variables", judged(sixty + ";give a0;}"), 0);
         error(9, sixty + ", #a60");
         error(2, sixty + ", #a0");
         StringBuilder keys = new StringBuilder("switch (n) { case 1");
@@ -311,26 +317,28 @@ public final class JudgeTest {
         String[] leaving = {"give n;", "fail n;", "loop {}", "if (n == 0) { give 1; } else { fail 2; }", "b: { give n; }",
             "switch (n) { case 1: { give n; } default: { loop {} } }", "l: loop { next l; }", "n = 1; give n;"};
         for (String one : leaving) {
-            Due.same(one, Kit.judge(x, 0, "number k(number n, array r) {" + one + "}"), 0);
+            Due.same(one, judged("number k(number n, array r) {" + one + "}"), 0);
         }
         // A pile of 60, and of 61.
         fine("n = " + times(59, "n+(") + "n" + times(59, ")") + ";");
         in(9, "n = " + times(60, "n+(") + "n" + times(60, ")") + ";give n;#}");
         in(10, "n = " + times(60, "n+(") + "n" + times(60, ")") + ";#}");
-        in(9, "give 1;n = " + times(60, "n+(") + "n" + times(60, ")") + ";give n;" + times(600, "n+=999;") + "give 1;#}");
+        in(9, "give 1;n = " + times(60, "n+(") + "n" + times(60, ")") + ";give n;" + times(500, "n+=999;") + "give 1;#}");
         // A right 0 or none is not put on the pile.
         fine("if (" + times(59, "n+(") + "n" + times(59, ")") + " == 0) {}");
         in(9, "if (" + times(59, "n+(") + "n" + times(59, ")") + " == 1) {} if (1 == " + times(59, "n+(") + "n" + times(59, ")")
             + ") {} give n;#}");
         // 4000 bytes of code: 8 for n += 999, 1 for end.
         String head = "void k(number n) {" + times(499, "n+=999;") + "n+=1;n+=1;";
-        Due.same("3999 bytes", Kit.judge(x, 0, head + "}"), 0);
-        Due.same("4000 bytes", Kit.judge(x, 0, "void k(number n) {" + times(499, "n+=999;") + "n=n;n+=1;}"), 0);
+        Due.same("3999 bytes", judged(head + "}"), 0);
+        Due.same("4000 bytes", judged("void k(number n) {" + times(499, "n+=999;") + "n=n;n+=1;}"), 0);
         error(11, head + "n+=1;#}");
         error(11, head + "n+=1;#} x");
     }
 
     private static void tape() {
+        SourceBack x = new SourceBack();
+        Kit.take(x, file);
         Kit.feed(x, "void k(){}");
         Due.same("no such file", x.judge(1), -1);
         Due.same("the tape is empty", x.count(0), 0);

@@ -1,0 +1,372 @@
+import java.util.Arrays;
+
+/** Terms 6 to 8, promise 11: members with a text that is just short, shallow or small enough, and those without. */
+public final class TextEdgeTest {
+    public static void main(String[] args) {
+        signsAndBeyond();
+        smallest();
+        manySigns();
+        deepIfs();
+        deepLoops();
+        deepSwitches();
+        deepBlocks();
+        deepMinus();
+        manyVariables();
+        manyBlocks();
+        longCode();
+        namesOfTheLanguage();
+        otherKindFound();
+        otherSignFound();
+        constants();
+        nothingToPutOut();
+        emptyParts();
+        labels();
+        looksOnce();
+        parametersAsOthers();
+        locals();
+        Due.end();
+    }
+
+    private static SourceBack taken(Kit kit) {
+        SourceBack x = new SourceBack();
+        Due.same("take", Kit.take(x, kit.bytes()), 0);
+        return x;
+    }
+
+    /** What is told of a member that has a text, or of one that has none. */
+    private static void has(String what, Kit kit, boolean text) {
+        SourceBack x = taken(kit);
+        Due.same(what + ", signs", x.member(0, 0, 8) > 0, text);
+        Due.same(what + ", the first sign", x.text(0, 0, 0) > 0, text);
+        Due.same(what + ", made again", x.member(0, 0, 9) >= 0, text);
+        Due.same(what + ", the made file", x.file(0, 5) > 0, text);
+        Due.same(what + ", a byte of it", x.byteAt(0, 1, 0), text ? 0xB0 : -1);
+        Due.same(what + ", files with a made one", x.count(5), text ? 1 : 0);
+    }
+
+    private static void text(String kinds, int locals, Kit.Code code, String... lines) {
+        SourceBack x = taken(new Kit("F").own("m", kinds, locals, 60, code));
+        Due.same("text", Kit.text(x, 0, 0), String.join("\n", lines) + "\n");
+    }
+
+    /** "Sign i of a member's text." */
+    private static void signsAndBeyond() {
+        SourceBack x = taken(new Kit("F").own("m", "V", 0, 0, Kit.code().op(46)));
+        String all = "void m() {\n  end;\n}\n";
+        Due.same("how many", x.member(0, 0, 8), all.length());
+        Due.same("the first", x.text(0, 0, 0), 'v');
+        Due.same("the last", x.text(0, 0, all.length() - 1), '\n');
+        int[] none = {-1, all.length(), all.length() + 1, Integer.MAX_VALUE, Integer.MIN_VALUE};
+        for (int i : none) {
+            Due.same("sign " + i, x.text(0, 0, i), -1);
+        }
+        Due.same("text(0, 1, 0)", x.text(0, 1, 0), -1);
+        Due.same("text(0, -1, 0)", x.text(0, -1, 0), -1);
+        Due.same("text(1, 0, 0)", x.text(1, 0, 0), -1);
+    }
+
+    private static void smallest() {
+        text("V", 0, Kit.code().at("a").go(42, "a"), "void m() {", "  loop {", "  }", "}");
+        text("A", 0, Kit.code().op(3).op(45), "array m() {", "  give none;", "}");
+        text("NNNNNNNNV", 8, Kit.code().op(46),
+            "void m(number n0, number n1, number n2, number n3, number n4, number n5, number n6, number n7) {", "  end;", "}");
+    }
+
+    /** "if it has more than 20000 signs" */
+    private static void manySigns() {
+        for (int n = 19990; n <= 20010; n++) {
+            int left = n - "void m(number n0) {\n  end;\n}\n".length();
+            Kit kit = new Kit("F");
+            int field = kit.field("G", "f12345678901234567890123456789", 'N');
+            Kit.Code code = Kit.code();
+            // Lines of 40 signs, "  G.f12345678901234567890123456789 = 1;", then of 11 to 14, "  n0 += -100;".
+            while (left >= 84) {
+                code.op(1, 1).of(8, field);
+                left -= 40;
+            }
+            for (int lines = (left + 13) / 14; lines > 0; lines--) {
+                int line = left / lines;
+                code.op(6, 0, new int[] {1, 10, 100, 156}[line - 11]);
+                left -= line;
+            }
+            SourceBack x = taken(kit.own("m", "NV", 1, 1, code.op(46)));
+            Due.same(n + " signs", x.member(0, 0, 8), n <= 20000 ? n : -1);
+            Due.same("the last sign", x.text(0, 0, n - 1), n <= 20000 ? '\n' : -1);
+        }
+    }
+
+    /** Ifs in one another: each one's first part gives, the next if stands in its else. Polished, they are short. */
+    private static Kit.Code ifs(int n) {
+        Kit.Code code = Kit.code();
+        for (int i = 0; i < n; i++) {
+            code.op(4, 0).op(1, i).go(28, "x" + i).op(1, i).op(45).at("x" + i);
+        }
+        return code;
+    }
+
+    private static void deep(String what, int depth, Kit.Code code) {
+        has(what + ", " + depth + " deep", new Kit("F").own("m", "NN", 1, 2, code.op(4, 0).op(45)), depth <= 60);
+    }
+
+    /** "more than 60 deep (blocks, loops, ifs, switches in one another)": as TREE makes it, ahead of polishing. */
+    private static void deepIfs() {
+        for (int n = 59; n <= 62; n++) {
+            deep("ifs", n, ifs(n));
+        }
+    }
+
+    private static void deepLoops() {
+        for (int n = 56; n <= 60; n++) {
+            // A loop in a loop, both with an if that goes back.
+            Kit.Code code = ifs(n).at("h").op(0).at("i").op(4, 0).go(38, "i").op(4, 0).go(36, "h");
+            deep("loops", n + 4, code);
+        }
+        for (int n = 58; n <= 61; n++) {
+            Kit.Code code = ifs(n).at("h").op(6, 0, 1).go(42, "h");
+            has("a loop, " + (n + 1) + " deep", new Kit("F").own("m", "NN", 1, 2, code), n + 1 <= 60);
+        }
+    }
+
+    private static void deepSwitches() {
+        for (int n = 57; n <= 60; n++) {
+            Kit.Code code = ifs(n).op(4, 0).choose("d 5:e").at("e").op(1, 7).op(45).at("d");
+            deep("a switch", n + 1, code);
+            Kit.Code two = ifs(n).op(4, 0).choose("d 5:e").at("e").op(4, 0).choose("f 6:g").at("f").op(1, 7).op(45).at("g").op(1, 8)
+                .op(45).at("d");
+            deep("a switch in a switch", n + 2, two);
+        }
+    }
+
+    /** A block around the ifs is one of those that are counted; polishing would take it away. */
+    private static void deepBlocks() {
+        for (int n = 58; n <= 61; n++) {
+            Kit.Code code = Kit.code();
+            for (int i = 0; i < n; i++) {
+                code.op(4, 0).go(34, "z");
+            }
+            has(n + " ifs in a block", new Kit("F").own("m", "NV", 1, 1, code.op(6, 0, 1).at("z").op(46)), n + 1 <= 60);
+        }
+    }
+
+    /** "if the judge (9) tells an ERROR of it": -(-( .. has two of (, [ and - for each but the last. */
+    private static void deepMinus() {
+        for (int n = 29; n <= 32; n++) {
+            Kit.Code code = Kit.code().op(4, 0);
+            for (int i = 0; i < n; i++) {
+                code.op(19);
+            }
+            has(n + " times -", new Kit("F").own("m", "NN", 1, 1, code.op(45)), 2 * n - 1 <= 60);
+        }
+    }
+
+    /** More than 60 variables with the parameters. */
+    private static void manyVariables() {
+        for (int n = 58; n <= 62; n++) {
+            // n0, and a temporary for each value that is put out below the next.
+            Kit.Code code = Kit.code();
+            for (int i = 0; i < n; i++) {
+                code.op(4, 0).op(21).op(20).op(20);
+            }
+            has(n + 1 + " variables", new Kit("F").own("m", "NV", 1, 2, code.op(46)), n + 1 <= 60);
+        }
+        // A local that is N here and A there is two variables.
+        for (int n = 29; n <= 31; n++) {
+            Kit.Code code = Kit.code();
+            for (int i = 0; i < n; i++) {
+                code.op(1, 1).op(5, i).op(3).op(5, i);
+            }
+            has(2 * n + " variables", new Kit("F").own("m", "V", 60, 1, code.op(46)), 2 * n <= 60);
+        }
+    }
+
+    /** A knotted member's switch has a key for each block: 40 at most. */
+    private static void manyBlocks() {
+        for (int n = 39; n <= 42; n++) {
+            // Two blocks that go to each other, both entered: 5 blocks with the last; then ifs, a block for each.
+            Kit.Code code = Kit.code().op(4, 0).go(34, "b").at("a").op(6, 0, 1).at("b").op(4, 0).go(38, "a");
+            for (int i = 5; i < n; i++) {
+                code.op(4, 0).go(34, "x");
+            }
+            Kit kit = new Kit("F").own("m", "NV", 1, 1, code.op(0).at("x").op(46));
+            SourceBack x = taken(kit);
+            Due.same("knotted", x.member(0, 0, 7), 1);
+            Due.same("blocks", x.member(0, 0, 6), n);
+            has(n + " blocks", kit, n <= 40);
+        }
+    }
+
+    /** A made code above 4000 bytes: n0 += 1 has 3 here and there; a value put twice 6 here, 11 there. */
+    private static void longCode() {
+        for (int[] n : new int[][] {{1322, 3}, {1326, 2}}) {
+            Kit.Code code = Kit.code();
+            for (int i = 0; i < n[0]; i++) {
+                code.op(6, 0, 1);
+            }
+            for (int i = 0; i < n[1]; i++) {
+                code.op(4, 0).op(21).op(9).op(5, 0);
+            }
+            SourceBack x = taken(new Kit("F").own("m", "NV", 1, 2, code.op(46)));
+            int bytes = 3 * n[0] + 11 * n[1] + 1;
+            Due.same(bytes + " bytes", x.member(0, 0, 8) > 0, bytes <= 4000);
+        }
+    }
+
+    /** A member, file or field with a word of the language for its name. */
+    private static void namesOfTheLanguage() {
+        String[] words = {"number", "array", "void", "give", "end", "fail", "drop", "if", "else", "loop", "while", "switch",
+            "case", "default", "break", "next", "none", "make", "size"};
+        for (String word : words) {
+            has(word, new Kit("F").own(word, "V", 0, 0, Kit.code().op(46)), false);
+            has(word + "_", new Kit("F").own(word + "_", "V", 0, 0, Kit.code().op(46)), true);
+            Kit owner = new Kit("F");
+            int field = owner.field(word, "f", 'N');
+            has(word + ".f", owner.own("m", "V", 0, 1, Kit.code().of(7, field).op(20).op(46)), false);
+            Kit named = new Kit("F");
+            int other = named.field("F", word, 'N');
+            has("F." + word, named.own("m", "V", 0, 1, Kit.code().of(7, other).op(20).op(46)), false);
+            // What is not reached is in no statement.
+            Kit unreached = new Kit("F");
+            int far = unreached.field("F", word, 'N');
+            has("unreached F." + word, unreached.own("m", "V", 0, 1, Kit.code().op(46).of(7, far)), true);
+        }
+        // The file's own name stands in no text that does not ask for it.
+        has("a file named if", new Kit("if").own("m", "V", 0, 0, Kit.code().op(46)), true);
+    }
+
+    /** "if he would find for an F.f .. of it one of another kind .. than the act's that it came from" */
+    private static void otherKindFound() {
+        for (int first = 0; first < 2; first++) {
+            for (int op = 7; op <= 8; op++) {
+                Kit kit = new Kit("F");
+                int number = kit.field("G", "f", first == 0 ? 'N' : 'A');
+                int array = kit.field("G", "f", first == 0 ? 'A' : 'N');
+                Kit.Code least = Kit.code().op(first == 0 ? 1 : 3);
+                Kit.Code other = Kit.code();
+                if (op == 7) {
+                    least = Kit.code().of(7, number).op(20);
+                    other = Kit.code().of(7, array).op(20);
+                } else {
+                    least = (first == 0 ? Kit.code().op(1, 1) : Kit.code().op(3)).of(8, number);
+                    other = (first == 0 ? Kit.code().op(3) : Kit.code().op(1, 1)).of(8, array);
+                }
+                has("the least entry", kit.own("m", "V", 0, 1, least.op(46)), true);
+                Kit again = new Kit("F");
+                again.field("G", "f", first == 0 ? 'N' : 'A');
+                again.field("G", "f", first == 0 ? 'A' : 'N');
+                has("another kind", again.own("m", "V", 0, 1, other.op(46)), false);
+            }
+        }
+        // The file's own field is found ahead of an entry with a lesser number.
+        Kit own = new Kit("F");
+        int pooled = own.field("F", "f", 'A');
+        int mine = own.ownField("f", 'N');
+        has("its own", own.own("m", "V", 0, 1, Kit.code().of(7, mine).op(20).op(46)), true);
+        Kit other = new Kit("F");
+        Due.same("the same entry", other.field("F", "f", 'A'), pooled);
+        other.ownField("f", 'N');
+        has("the pool's", other.own("m", "V", 0, 1, Kit.code().of(7, pooled).op(20).op(46)), false);
+        // Alike by kind and name, though another entry.
+        Kit twice = new Kit("F");
+        twice.twice = true;
+        twice.field("G", "f", 'N');
+        int second = twice.field("G", "f", 'N');
+        has("alike", twice.own("m", "V", 0, 1, Kit.code().of(7, second).op(20).op(46)), true);
+    }
+
+    private static void otherSignFound() {
+        String[] results = {"N", "A", "V"};
+        for (String first : results) {
+            for (String other : results) {
+                Kit kit = new Kit("F");
+                kit.twice = true;
+                kit.member("G", "h", "NA" + first);
+                int entry = kit.member("G", "h", "NA" + other);
+                Kit.Code code = Kit.code().op(1, 1).op(3).of(44, entry).op(46);
+                has(first + " found for " + other, kit.own("m", "V", 0, 2, code), first.equals(other));
+            }
+        }
+        Kit kinds = new Kit("F");
+        kinds.member("G", "h", "AA");
+        int entry = kinds.member("G", "h", "NN");
+        has("other parameters", kinds.own("m", "V", 0, 2, Kit.code().op(1, 1).of(44, entry).op(46)), true);
+    }
+
+    /** "a number's digits (- ahead if it is below 0)" */
+    private static void constants() {
+        long[] numbers = {0, 1, -1, 9, 10, -10, 127, 128, -128, -129, 999999999999999999L, 1000000000000000000L,
+            Long.MAX_VALUE, Long.MIN_VALUE, Long.MIN_VALUE + 1, -1000000000000000000L};
+        for (long n : numbers) {
+            Kit kit = new Kit("F");
+            int entry = kit.number(n);
+            SourceBack x = taken(kit.own("m", "N", 0, 1, Kit.code().of(2, entry).op(45)));
+            Due.same("number " + n, Kit.text(x, 0, 0), "number m() {\n  give " + n + ";\n}\n");
+        }
+        for (int n : new int[] {0, 1, 127, 128, 255}) {
+            text("N", 0, Kit.code().op(1, n).op(45), "number m() {", "  give " + (byte) n + ";", "}");
+            text("NV", 1, Kit.code().op(6, 0, n).op(46), "void m(number n0) {", "  n0 += " + (byte) n + ";", "  end;", "}");
+        }
+    }
+
+    /** "each of which is no constant and no temporary already" */
+    private static void nothingToPutOut() {
+        Kit kit = new Kit("F");
+        int entry = kit.number(1000);
+        Kit.Code code = Kit.code().op(1, 5).of(2, entry).op(3).op(6, 0, 1).op(20).op(22).op(10).op(45);
+        SourceBack x = taken(kit.own("m", "NN", 1, 60, code));
+        Due.same("constants stay", Kit.text(x, 0, 0),
+            "number m(number n0) {\n  n0 += 1;\n  drop none;\n  give 1000 - 5;\n}\n");
+        text("NN", 1, Kit.code().op(4, 0).op(21).op(21).op(22).op(23).op(20).op(20).op(20).op(45), "number m(number n0) {",
+            "  number t0;", "  t0 = n0;", "  drop t0;", "  drop t0;", "  drop t0;", "  give t0;", "}");
+        // What is below what a statement takes, and nothing if that is all.
+        text("NV", 1, Kit.code().op(4, 0).op(5, 0).op(46), "void m(number n0) {", "  n0 = n0;", "  end;", "}");
+        text("NAV", 2, Kit.code().op(4, 0).op(4, 1).op(4, 0).op(4, 0).op(26).op(46), "void m(number n0, array r1) {",
+            "  number t0;", "  t0 = n0;", "  r1[n0] = n0;", "  end;", "}");
+    }
+
+    /** "an else that is empty is not there", "A switch always has default .. also if it is empty" */
+    private static void emptyParts() {
+        text("NV", 1, Kit.code().op(4, 0).go(34, "a").at("a").op(46), "void m(number n0) {", "  if (n0 == 0) {", "  }", "  end;",
+            "}");
+        text("NV", 1, Kit.code().op(4, 0).go(34, "a").op(0).at("a").op(46), "void m(number n0) {", "  if (n0 == 0) {", "  }",
+            "  end;", "}");
+        text("NV", 1, Kit.code().op(4, 0).choose("a 1:b").at("b").op(0).at("a").op(46), "void m(number n0) {",
+            "  switch (n0) {", "    case 1: {", "    }", "    default: {", "    }", "  }", "  end;", "}");
+        text("NV", 1, Kit.code().op(4, 0).choose("a").at("a").op(46), "void m(number n0) {", "  switch (n0) {",
+            "    default: {", "      end;", "    }", "  }", "}");
+    }
+
+    /** "l4: is there only if a next l4; is within" */
+    private static void labels() {
+        text("NV", 1, Kit.code().op(0).op(0).op(0).op(0).at("h").op(4, 0).go(34, "h").op(6, 0, 1).go(42, "h"),
+            "void m(number n0) {", "  loop {", "    if (n0 != 0) {", "      n0 += 1;", "    }", "  }", "}");
+        // From within an inner loop a next to the outer one stays.
+        text("NV", 1, Kit.code().op(0).op(0).at("h").op(6, 0, 1).at("i").op(4, 0).go(34, "h").op(6, 0, 2).go(42, "i"),
+            "void m(number n0) {", "  l2: loop {", "    n0 += 1;", "    loop {", "      if (n0 == 0) {", "        next l2;",
+            "      }", "      n0 += 2;", "    }", "  }", "}");
+    }
+
+    /** "(looked at once: what stands ahead of one that went is not looked at again)" */
+    private static void looksOnce() {
+        // The if's two parts end with next; both go, and so it stays as an if without them.
+        text("NV", 1, Kit.code().at("h").op(4, 0).go(34, "a").op(6, 0, 1).go(42, "h").at("a").op(6, 0, 2).go(42, "h"),
+            "void m(number n0) {", "  loop {", "    if (n0 == 0) {", "      n0 += 2;", "    } else {", "      n0 += 1;",
+            "    }", "  }", "}");
+    }
+
+    /** "parameters are the variables n0, r1, .. of their locals": as the other kind they are told like all others. */
+    private static void parametersAsOthers() {
+        text("NAV", 3, Kit.code().op(3).op(5, 0).op(1, 1).op(5, 1).op(4, 0).op(20).op(4, 1).op(20).op(46),
+            "void m(number n0, array r1) {", "  number n1;", "  array r0;", "  r0 = none;", "  n1 = 1;", "  drop r0;",
+            "  drop n1;", "  end;", "}");
+    }
+
+    /** Variables of the last locals; those that no statement has are not told. */
+    private static void locals() {
+        text("V", 60, Kit.code().op(1, 1).op(5, 59).op(3).op(5, 58).op(1, 2).op(5, 31).op(1, 3).op(5, 32).op(46), "void m() {",
+            "  number n31, n32, n59;", "  array r58;", "  n59 = 1;", "  r58 = none;", "  n31 = 2;", "  n32 = 3;", "  end;", "}");
+        SourceBack x = taken(new Kit("F").own("m", "V", 60, 60, Kit.code().op(46)));
+        Due.same("none", Kit.text(x, 0, 0), "void m() {\n  end;\n}\n");
+        byte[] made = Kit.bytes(x, 0, 1);
+        Due.same("its locals, pile, code", Arrays.copyOfRange(made, made.length - 5, made.length), new byte[] {0, 0, 0, 1, 46});
+    }
+}

@@ -5,6 +5,7 @@ public final class AskEdgeTest {
     public static void main(String[] args) {
         files();
         madeOnes();
+        askedFirst();
         bytes();
         names();
         numbers();
@@ -79,6 +80,28 @@ public final class AskEdgeTest {
         Kit.take(none, new Kit("F").bytes());
         Due.same("no members at all", none.file(0, 5), 17);
         Due.same("files with a made one", none.count(5), 1);
+    }
+
+    /** The made one is there whatever is asked first. */
+    private static void askedFirst() {
+        Kit kit = new Kit("F").own("a", "V", 0, 0, Kit.code().op(46)).own("b", "V", 0, 0, Kit.code().op(0).op(46));
+        SourceBack x = new SourceBack();
+        Kit.take(x, kit.bytes());
+        Due.same("a byte", x.byteAt(0, 1, 0), 0xB0);
+        SourceBack y = new SourceBack();
+        Kit.take(y, kit.bytes());
+        Due.same("how many have one", y.count(5), 1);
+        SourceBack z = new SourceBack();
+        Kit.take(z, kit.bytes());
+        Due.same("how long", z.file(0, 5), kit.bytes().length - 1);
+        SourceBack u = new SourceBack();
+        Kit.take(u, kit.bytes());
+        u.call(1, 0, 1, 0, 0);
+        Due.same("its steps", u.steps(1, 9), 1);
+        SourceBack v = new SourceBack();
+        Kit.take(v, kit.bytes());
+        Due.same("made again", v.member(0, 1, 9), 1);
+        Due.same("alike", v.alike(0, 0, 0), 2);
     }
 
     private static void bytes() {

@@ -20,6 +20,7 @@ public final class EditEdgeTest {
         undoneByFile();
         pairs();
         alikeOrNot();
+        entriesAlike();
         Due.end();
     }
 
@@ -384,6 +385,14 @@ public final class EditEdgeTest {
         Due.same("file 15", x.undo(15), true);
         Due.same("file 15", given(x, 15), 65);
         Due.same("file 0", given(x, 0), 0);
+        for (int n = 71; n <= 79; n++) {
+            Due.same("edit", Kit.edit(x, 15, 0, giving(n)), 0);
+        }
+        for (int n = 78; n >= 71; n--) {
+            Due.same("undo", x.undo(15), true);
+            Due.same("file 15", given(x, 15), n);
+        }
+        Due.same("nothing to undo", x.undo(15), false);
         int[] none = {-1, 16, Integer.MAX_VALUE, Integer.MIN_VALUE};
         for (int f : none) {
             Due.same("undo(" + f + ")", x.undo(f), false);
@@ -444,6 +453,13 @@ public final class EditEdgeTest {
         return x.alike(0, 0, 1);
     }
 
+    private static int alike(String first, String second, Kit.Code a, Kit.Code b) {
+        SourceBack x = new SourceBack();
+        Kit.take(x, new Kit("F").own("m", first, 0, 1, a).bytes());
+        Kit.take(x, new Kit("G").own("m", second, 0, 1, b).bytes());
+        return x.alike(0, 0, 1);
+    }
+
     /** Entries that a code asks for as 1 to 5 are those of this file. */
     private static byte[] asking(Kit.Code code, int[] entries) {
         byte[] bytes = code.bytes();
@@ -464,6 +480,49 @@ public final class EditEdgeTest {
             }
         }
         return all.toByteArray();
+    }
+
+    /** An act that is not reached, in two members of the same text: alike by all that its entry says, or not. */
+    private static void unreached(String what, int op, String first, String second) {
+        SourceBack x = new SourceBack();
+        String[] entries = {first, second};
+        for (int i = 0; i < 2; i++) {
+            Kit kit = new Kit("F" + i);
+            String[] parts = entries[i].split(" ");
+            for (int k = 0; k < 300 * i; k++) {
+                kit.sign("V");
+                kit.twice = true;
+            }
+            kit.twice = false;
+            int entry = op == 2 ? kit.number(Long.parseLong(parts[0])) : op == 44 ? kit.member(parts[0], parts[1], parts[2])
+                : kit.field(parts[0], parts[1], parts[2].charAt(0));
+            kit.own("m", "V", 0, 0, Kit.code().op(46).of(op, entry));
+            Due.same("take", Kit.take(x, kit.bytes()), i);
+        }
+        Due.same(what, x.alike(0, 0, 1), first.equals(second) ? 2 : 1);
+    }
+
+    /** "with entries alike": in files where they have other numbers, above 255, too. */
+    private static void entriesAlike() {
+        unreached("a number", 2, "5000", "5000");
+        unreached("another number", 2, "5000", "5001");
+        for (int op = 7; op <= 8; op++) {
+            unreached("a field", op, "G f N", "G f N");
+            unreached("a field of A", op, "G f A", "G f A");
+            unreached("another owner", op, "G f N", "H f N");
+            unreached("another name", op, "G f N", "G g N");
+            unreached("a longer name", op, "G f N", "G ff N");
+            unreached("another kind", op, "G f N", "G f A");
+        }
+        unreached("a member", 44, "G h NAN", "G h NAN");
+        unreached("another owner", 44, "G h NAN", "H h NAN");
+        unreached("another name", 44, "G h NAN", "G k NAN");
+        unreached("other kinds", 44, "G h NAN", "G h NNN");
+        unreached("other kinds", 44, "G h NAN", "G h ANN");
+        unreached("fewer parameters", 44, "G h NNN", "G h NN");
+        unreached("another result", 44, "G h NAN", "G h NAA");
+        unreached("no result", 44, "G h NAN", "G h NAV");
+        unreached("no parameters", 44, "G h V", "G h V");
     }
 
     /** "2 they have the same acts with entries alike, 1 the same text, 0 neither" */
@@ -487,5 +546,16 @@ public final class EditEdgeTest {
         // Without a text there is no same text.
         Due.same("no text, the same acts", alike(Kit.code().op(0).op(46), Kit.code().op(0).op(46), "if"), 2);
         Due.same("no text, other acts", alike(Kit.code().op(0).op(46), Kit.code().op(46), "if"), 0);
+        Kit.Code deep = Kit.code().op(4, 0);
+        for (int i = 0; i < 31; i++) {
+            deep.op(19);
+        }
+        Due.same("a text of one only", alike(deep.op(20).op(46), Kit.code().op(46), "m"), 0);
+        // Texts that differ by their first sign, by their last but one, and by their length.
+        Due.same("another result", alike("N", "A", Kit.code().op(1, 1).op(47).op(0), Kit.code().op(1, 1).op(47)), 0);
+        Due.same("the same result", alike("N", "N", Kit.code().op(1, 1).op(47).op(0), Kit.code().op(1, 1).op(47)), 1);
+        Due.same("another result, the same acts", alike("N", "A", Kit.code().op(1, 1).op(47), Kit.code().op(1, 1).op(47)), 2);
+        Due.same("another number at the end", alike("N", "N", Kit.code().op(1, 1).op(47), Kit.code().op(1, 2).op(47)), 0);
+        Due.same("a longer one", alike("N", "N", Kit.code().op(1, 1).op(47), Kit.code().op(1, 11).op(47)), 0);
     }
 }

@@ -18,6 +18,8 @@ public final class FlowEdgeTest {
         valuesLeft();
         mixing();
         roundByRound();
+        mixedLate();
+        oneByOne();
         unreached();
         blocksBegin();
         ways();
@@ -149,6 +151,16 @@ public final class FlowEdgeTest {
         pileBehind(21, "NA", "NAA");
         pileBehind(22, "NNA", "NAN");
         pileBehind(23, "NNA", "NANA");
+        for (char x : "NA".toCharArray()) {
+            for (char y : "NA".toCharArray()) {
+                for (String below : new String[] {"", "N", "A", "NA", "AN"}) {
+                    pileBehind(22, below + x + y, below + y + x);
+                    pileBehind(23, below + x + y, below + y + x + y);
+                    pileBehind(21, below + x + y, below + x + y + y);
+                    pileBehind(20, below + x + y, below + x);
+                }
+            }
+        }
         pileBehind(24, "AN", "AA");
         pileBehind(25, "AAN", "AN");
         pileBehind(26, "AANN", "A");
@@ -309,6 +321,8 @@ public final class FlowEdgeTest {
         refused("a jump back", "NAV", 4, Kit.code().at("a").op(4, 0).go(42, "a"), 23, 2);
         // A switch's d comes first, then its keys' ends as they stand, each told at the switch.
         refused("a switch back", "NAV", 4, Kit.code().at("a").op(4, 0).op(4, 0).choose("z 1:z 2:a").at("z").op(46), 23, 4);
+        taken("a number is loaded", "NAV", 4, Kit.code().op(4, 0).op(4, 0).go(34, "a").op(20).op(4, 0).at("a").op(46));
+        taken("an array is loaded", "NAV", 4, Kit.code().op(4, 1).op(4, 0).go(34, "a").op(20).op(4, 1).at("a").op(46));
         taken("as deep", "NAV", 4, Kit.code().op(4, 0).op(4, 0).go(34, "a").op(20).op(1, 1).at("a").op(46));
     }
 
@@ -376,6 +390,37 @@ public final class FlowEdgeTest {
         Kit.Code chain = Kit.code().op(1, 1).op(5, 2).op(1, 1).op(5, 3).op(1, 1).op(5, 4).at("h").op(4, 2).op(20).op(4, 3).op(5, 2)
             .op(4, 4).op(5, 3).op(3).op(5, 4).op(4, 0).go(34, "h").op(46);
         refused("the first that is told", "NAV", 1, chain, 20, 19);
+    }
+
+    /** A round that reaches no more acts, but makes a local BOTH, is not the last. */
+    private static void mixedLate() {
+        Kit.Code code = Kit.code().op(1, 1).op(5, 2).go(42, "c").at("a").op(4, 2).op(20).op(46).at("b").go(42, "a").at("c").op(4, 0)
+            .go(34, "b").op(3).op(5, 2).go(42, "c");
+        refused("in the fourth round", "NAV", 1, code, 20, 7);
+    }
+
+    /** What is known of one member is not known of the next. */
+    private static void oneByOne() {
+        Kit.Code loops = Kit.code().at("a").op(1, 1).op(5, 40).op(3).op(5, 3).go(42, "a");
+        Kit.Code plain = Kit.code().at("a").op(0).go(42, "a");
+        SourceBack x = new SourceBack();
+        Due.same("take", Kit.take(x, new Kit("F").own("a", "V", 60, 1, loops).own("b", "V", 60, 1, plain).bytes()), 0);
+        for (int m = 0; m < 2; m++) {
+            Due.same("local 40 of " + m, x.kind(0, m, 0, 40), m == 0 ? 3 : 0);
+            Due.same("local 3 of " + m, x.kind(0, m, 0, 3), m == 0 ? 3 : 0);
+            Due.same("local 4 of " + m, x.kind(0, m, 0, 4), 0);
+        }
+        // The first member has acts at 0, 1 and 2; the second one's only act has no act within it.
+        for (int goal = 1; goal <= 3; goal++) {
+            Kit kit = new Kit("F").own("a", "V", 0, 0, Kit.code().op(0).op(0).op(0).op(46)).own("b", "V", 0, 0, Kit.code().go(42, "" + goal));
+            Due.same("to " + goal, Kit.take(new SourceBack(), kit.bytes()), told(16, kit.bytes().length - 3));
+        }
+        SourceBack y = new SourceBack();
+        Due.same("take", Kit.take(y, new Kit("F").own("a", "NV", 1, 1, Kit.code().op(4, 0).op(47)).own("b", "V", 0, 0, Kit.code().op(46).op(0))
+            .bytes()), 0);
+        Due.same("reached", y.act(0, 0, 1, 2), 1);
+        Due.same("not reached", y.act(0, 1, 1, 2), 0);
+        Due.same("its pile", y.act(0, 1, 1, 3), -1);
     }
 
     /** "those that were REACHED (the first one is)" */

@@ -254,6 +254,9 @@ public final class FormEdgeTest {
         Due.same("take", Kit.take(x, named), 0);
         Due.same("the member's sign", x.entry(0, 1, 3), 5);
         refused("the file's name is no NAME", bytes, 8, bytes.length - 6);
+        refused("the first entry asks in vain", with(named, 9, 0, 9), 8, 9);
+        refused("the first entry asks for a SIGN in vain", with(named, 13, 0, 4), 8, 13);
+        refused("the last but two", with(named, 16, 0, 5), 8, 16);
     }
 
     /** "what fields and members ask for, where it stands" */
@@ -469,6 +472,11 @@ public final class FormEdgeTest {
         Kit kit = new Kit("F");
         kit.own(kit.member("F", "m", "V"), 0, 0, keys);
         refused("a key too few", kit.bytes(), 12, kit.bytes().length - keys.length);
+        Kit header = new Kit("F");
+        header.own(header.member("F", "m", "V"), 0, 0, new byte[] {0, 43, 0, 0, 1});
+        byte[] bytes = header.bytes();
+        refused("no key at all", bytes, 12, bytes.length - 4);
+        refused("no key at all, but more of the tape", Arrays.copyOf(bytes, bytes.length + 9), 12, bytes.length - 4);
     }
 
     /** "else 1", "an act whose bytes end with the tape, too" */

@@ -39,6 +39,8 @@ public final class JudgeEdgeTest {
         leastOfOneToken();
         asked();
         found();
+        wholeWords();
+        firstAndLast();
         nothingChanged();
         Due.end();
     }
@@ -487,6 +489,62 @@ public final class JudgeEdgeTest {
         in(4, "n = #f.f;");
         in(4, "n = #F.F;");
         file = before;
+    }
+
+    /** A name that is longer by one sign, or shorter, is another one. */
+    private static void wholeWords() {
+        for (char c : "abyzABYZ0189_".toCharArray()) {
+            in(4, "n = #F.f" + c + ";");
+            in(4, "n = #F" + c + ".f;");
+            in(4, "n = #F.h" + c + "(n);");
+            in(4, "n = #F" + c + ".h(n);");
+            in(3, "n = #n" + c + ";");
+            in(3, "l: { break #l" + c + ";");
+            fine("l: { l" + c + ": { break l; } }");
+            good("void k(number n" + c + ", number n, number n" + c + c + "){}");
+        }
+        in(4, "n = #Othe." + LONGEST + ";");
+        in(4, "n = #Other." + LONGEST.substring(0, 29) + ";");
+        in(4, "n = #Other." + LONGEST.substring(0, 29) + "();");
+        String first = LONGEST.substring(0, 29);
+        good("void k(number " + LONGEST + ", number " + first + "X, number " + first + "){ " + LONGEST + " = " + first + "X; }");
+        error(2, "void k(number " + LONGEST + ", number #" + LONGEST + "){}");
+        in(3, LONGEST + ": { break #" + first + "X;");
+        in(2, LONGEST + ": { #" + LONGEST + ": {");
+    }
+
+    /** An entry may be the first of the pool, or the last. */
+    private static void firstAndLast() {
+        byte[] before = file;
+        // 1 FIELD 3.4, 2 MEMBER 3.4 5, 3 G, 4 f, 5 :V, 6 the name F.
+        file = pool(6, 4, 0, 3, 0, 4, 'N', 5, 0, 3, 0, 4, 0, 5, 1, 1, 'G', 1, 1, 'f', 3, 0, 'V', 1, 1, 'F');
+        fine("n = G.f; G.f();");
+        file = pool(6, 5, 0, 3, 0, 4, 0, 5, 4, 0, 3, 0, 4, 'N', 1, 1, 'G', 1, 1, 'f', 3, 0, 'V', 1, 1, 'F');
+        fine("n = G.f; G.f();");
+        Kit last = new Kit("F");
+        last.field("G", "f", 'N');
+        file = last.bytes();
+        fine("n = G.f;");
+        Kit member = new Kit("F");
+        member.member("G", "f", "V");
+        file = member.bytes();
+        fine("G.f();");
+        file = before;
+    }
+
+    /** A file whose name is the last entry of these. */
+    private static byte[] pool(int entries, int... bytes) {
+        byte[] all = new byte[8 + bytes.length + 6];
+        int[] head = {0xB0, 7, 0xF1, 0x1E, 0, 1, 0, entries};
+        for (int i = 0; i < 8; i++) {
+            all[i] = (byte) head[i];
+        }
+        for (int i = 0; i < bytes.length; i++) {
+            all[8 + i] = (byte) bytes[i];
+        }
+        all[8 + bytes.length + 1] = (byte) entries;
+        Due.same("take", Kit.take(new SourceBack(), all), 0);
+        return all;
     }
 
     /** "(nothing is changed)", "NONE if there is no such file" */

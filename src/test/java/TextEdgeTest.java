@@ -17,11 +17,13 @@ public final class TextEdgeTest {
         namesOfTheLanguage();
         otherKindFound();
         otherSignFound();
+        besideAnother();
         constants();
         nothingToPutOut();
         emptyParts();
         labels();
         looksOnce();
+        leaving();
         parametersAsOthers();
         locals();
         Due.end();
@@ -291,6 +293,41 @@ public final class TextEdgeTest {
         has("other parameters", kinds.own("m", "V", 0, 2, Kit.code().op(1, 1).of(44, entry).op(46)), true);
     }
 
+    /** A member without a text has none, whatever was shown ahead of it. */
+    private static void besideAnother() {
+        Kit.Code deep = Kit.code();
+        for (int i = 0; i < 61; i++) {
+            deep.op(4, 0).op(1, i).go(28, "x" + i).op(46).at("x" + i);
+        }
+        Kit.Code minus = Kit.code().op(4, 0);
+        for (int i = 0; i < 31; i++) {
+            minus.op(19);
+        }
+        Kit.Code wide = Kit.code();
+        for (int i = 0; i < 58; i++) {
+            wide.op(4, 0).go(34, "z");
+        }
+        for (int i = 0; i < 200; i++) {
+            wide.op(6, 0, 1);
+        }
+        Kit kit = new Kit("F");
+        kit.field("G", "f", 'N');
+        int other = kit.field("G", "f", 'A');
+        kit.own("a", "V", 0, 0, Kit.code().op(46));
+        kit.own("kind", "V", 0, 1, Kit.code().of(7, other).op(20).op(46));
+        kit.own("deep", "NV", 1, 2, deep.op(46));
+        kit.own("minus", "NV", 1, 2, minus.op(20).op(46));
+        kit.own("wide", "NV", 1, 1, wide.at("z").op(46));
+        kit.own("b", "V", 0, 0, Kit.code().op(46));
+        SourceBack x = taken(kit);
+        for (int m = 0; m < 6; m++) {
+            boolean text = m == 0 || m == 5;
+            Due.same("signs of " + m, x.member(0, m, 8), text ? 20 : -1);
+            Due.same("made again " + m, x.member(0, m, 9), text ? 2 : -1);
+            Due.same("the first sign of " + m, x.text(0, m, 0), text ? 'v' : -1);
+        }
+    }
+
     /** "a number's digits (- ahead if it is below 0)" */
     private static void constants() {
         long[] numbers = {0, 1, -1, 9, 10, -10, 127, 128, -128, -129, 999999999999999999L, 1000000000000000000L,
@@ -351,6 +388,37 @@ public final class TextEdgeTest {
         text("NV", 1, Kit.code().at("h").op(4, 0).go(34, "a").op(6, 0, 1).go(42, "h").at("a").op(6, 0, 2).go(42, "h"),
             "void m(number n0) {", "  loop {", "    if (n0 == 0) {", "      n0 += 2;", "    } else {", "      n0 += 1;",
             "    }", "  }", "}");
+    }
+
+    /** The first part of if (n0 == 0) leaves, so that the other, n0 += 9; n0 += 8; end; stands behind the if. */
+    private static void leaves(Kit.Code code, String... lines) {
+        StringBuilder want = new StringBuilder("void m(number n0) {\n  if (n0 == 0) {\n");
+        for (String line : lines) {
+            want.append("    ").append(line).append("\n");
+        }
+        SourceBack x = taken(new Kit("F").own("m", "NV", 1, 60, code));
+        Due.same("text", Kit.text(x, 0, 0), want + "  }\n  n0 += 9;\n  n0 += 8;\n  end;\n}\n");
+    }
+
+    /** An if's other part, n0 += 9; n0 += 8; end; stands ahead of its first, at a. */
+    private static Kit.Code other() {
+        return Kit.code().op(4, 0).go(34, "a").op(6, 0, 9).op(6, 0, 8).op(46).at("a");
+    }
+
+    /** "LEAVES: a list whose last statement is give, end, fail, break, next, a loop without condition, .. a switch .." */
+    private static void leaving() {
+        leaves(other().op(6, 0, 1).op(46), "n0 += 1;", "end;");
+        leaves(other().op(1, 1).op(47), "fail 1;");
+        leaves(other().at("h").op(6, 0, 1).go(42, "h"), "loop {", "  n0 += 1;", "}");
+        leaves(other().op(4, 0).choose("d 1:e").at("d").op(46).at("e").op(1, 2).op(47), "switch (n0) {", "  case 1: {",
+            "    fail 2;", "  }", "  default: {", "    end;", "  }", "}");
+        // Polished from inside out, an if both of whose parts leave has one of them behind it already.
+        leaves(other().op(4, 0).go(36, "e").op(46).at("e").op(1, 2).op(47), "if (n0 < 0) {", "  fail 2;", "}", "end;");
+        // A switch that does not leave: it goes on to what is behind both.
+        text("NV", 1, Kit.code().op(4, 0).go(36, "z").op(4, 0).go(34, "a").op(6, 0, 9).op(46).at("a").op(4, 0).choose("d 1:e").at("d")
+            .op(6, 0, 1).go(42, "z").at("e").op(6, 0, 2).at("z").op(6, 0, 3).op(46), "void m(number n0) {", "  if (n0 >= 0) {",
+            "    if (n0 != 0) {", "      n0 += 9;", "      end;", "    }", "    switch (n0) {", "      case 1: {", "        n0 += 2;",
+            "      }", "      default: {", "        n0 += 1;", "      }", "    }", "  }", "  n0 += 3;", "  end;", "}");
     }
 
     /** "parameters are the variables n0, r1, .. of their locals": as the other kind they are told like all others. */

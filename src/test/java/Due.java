@@ -29,7 +29,8 @@ final class Due {
     }
 
     static void same(String call, byte[] got, byte[] want) {
-        same(call, java.util.Arrays.toString(got), java.util.Arrays.toString(want));
+        int place = got == null || want == null ? -2 : java.util.Arrays.mismatch(got, want);
+        same(call + ", where they differ", got == want ? -1 : place, -1);
     }
 
     /** Some call. */

@@ -11,6 +11,8 @@ public final class EditEdgeTest {
         knownEntries();
         pilesOfMade();
         poolOfMade();
+        largePool();
+        firstEntry();
         ruleOfRounds();
         entriesAbove();
         otherHead();
@@ -87,6 +89,8 @@ public final class EditEdgeTest {
         made("if (n < 1) { }", 2, null, Kit.code().op(4, 0).op(1, 1).go(33, "a").at("a").op(46));
         made("if (n < -(0)) { }", 2, null, Kit.code().op(4, 0).op(1, 0).op(19).go(33, "a").at("a").op(46));
         made("if (n < 0 + 0) { }", 3, null, Kit.code().op(4, 0).op(1, 0).op(1, 0).op(9).go(33, "a").at("a").op(46));
+        made("if (n < (n)) { }", 2, null, Kit.code().op(4, 0).op(4, 0).go(33, "a").at("a").op(46));
+        made("if (n < (1)) { }", 2, null, Kit.code().op(4, 0).op(1, 1).go(33, "a").at("a").op(46));
         made("if (0 < n) { }", 2, null, Kit.code().op(1, 0).op(4, 0).go(33, "a").at("a").op(46));
         made("if (0 == 0) { }", 1, null, Kit.code().op(1, 0).go(35, "a").at("a").op(46));
         made("if (none == ((none))) { }", 1, null, Kit.code().op(3).go(41, "a").at("a").op(46));
@@ -211,6 +215,44 @@ public final class EditEdgeTest {
         none.number(7);
         Kit.take(x, none.bytes());
         Due.same("nothing else", Kit.bytes(x, 1, 1), new Kit("G").bytes());
+    }
+
+    /** A made file with more than 255 entries: what they ask for has two bytes. */
+    private static void largePool() {
+        Kit kit = new Kit("F");
+        Kit want = new Kit("F");
+        int m = want.member("F", "m", "V");
+        Kit.Code code = Kit.code();
+        Kit.Code again = Kit.code();
+        kit.twice = true;
+        kit.name("more");
+        for (int i = 0; i < 260; i++) {
+            code.of(2, kit.number(1000 + i)).op(20);
+            again.of(2, want.number(1000 + i)).op(20);
+        }
+        code.op(1, 0).op(3).of(44, kit.member("Far", "go", "NAN")).op(20).op(46);
+        again.op(1, 0).op(3).of(44, want.member("Far", "go", "NAN")).op(20).op(46);
+        kit.own(kit.member("F", "m", "V"), 0, 2, code.bytes());
+        want.own(m, 0, 2, again.bytes());
+        SourceBack x = new SourceBack();
+        Due.same("take", Kit.take(x, kit.bytes()), 0);
+        Due.same("the made one", Kit.bytes(x, 0, 1), want.bytes());
+        Due.same("made again", x.member(0, 0, 9), 2);
+    }
+
+    /** A number that is the first entry of a pool is found there. */
+    private static void firstEntry() {
+        // 1 the number 1000, 2 F, 3 m, 4 :V, 5 F.m.
+        int[] bytes = {0xB0, 7, 0xF1, 0x1E, 0, 1, 0, 5, 2, 0, 0, 0, 0, 0, 0, 3, 0xE8, 1, 1, 'F', 1, 1, 'm', 3, 0, 'V', 5, 0, 2, 0, 3,
+            0, 4, 0, 2, 0, 0, 0, 1, 0, 5, 0, 0, 0, 1, 46};
+        SourceBack x = new SourceBack();
+        for (int b : bytes) {
+            x.feed(b, 1);
+        }
+        Due.same("take", x.take(), 0);
+        Due.same("edit", Kit.edit(x, 0, 0, "void m() { drop 1000; }"), 0);
+        Due.same("entries", x.file(0, 1), 5);
+        Due.same("its number", x.byteAt(0, 0, x.file(0, 4) - 3), 1);
     }
 
     /** "-2 if the file with it breaks a rule of 16 to 23" */

@@ -32,6 +32,7 @@ public final class JudgeEdgeTest {
         nestedStatements();
         nestedTerms();
         notCounted();
+        firstToken();
         endReached();
         pileAboveSixty();
         codeAbove();
@@ -342,6 +343,11 @@ public final class JudgeEdgeTest {
         fine("n = " + "(".repeat(60) + "-5" + ")".repeat(60) + ";");
         fine("n = " + "(".repeat(60) + "-5 - -5" + ")".repeat(60) + ";");
         fine("n = " + "(".repeat(60) + "n - n - n" + ")".repeat(60) + ";");
+        // Those of a term, and of a statement, that is read do not count.
+        fine("n = -n;".repeat(70) + "n = " + "(".repeat(60) + "n" + ")".repeat(60) + ";");
+        in(8, "n = -n;".repeat(70) + "n = " + "(".repeat(60) + "#(");
+        in(8, "n = n + n * n;".repeat(70) + "n = " + "(".repeat(60) + "#(");
+        in(8, "n = (-r[n] + size(make(F.h(n))));".repeat(20) + "n = " + "- ".repeat(60) + "#-n");
         // Side by side, they are not within one another.
         fine("n = " + "(n) + ".repeat(70) + "n;");
         fine("n = " + "-n + ".repeat(70) + "n;");
@@ -349,6 +355,41 @@ public final class JudgeEdgeTest {
         fine("n = " + "F.h(n) + ".repeat(70) + "n;");
         // Statements and terms are counted for themselves.
         fine("loop {".repeat(60) + "n = " + deep + ";" + "}".repeat(60));
+    }
+
+    /** "5 (at the term's first token)": of a term with operators that of its leftmost part. */
+    private static void firstToken() {
+        String[] terms = {"n", "5", "-5", "n + n", "n + n * n", "n * n + n", "n | n ^ n & n << n + n * n", "-n", "- n + n", "(n) + n",
+            "(n + n) * n", "r[n]", "r[n] + n", "size(r)", "size(r) - n", "F.f", "F.f + 1", "F.h(n)", "F.h(n) + n", "-(n)", "(((n)))"};
+        for (String term : terms) {
+            in(5, "r = #" + term + ";");
+            in(5, "F.g = #" + term + ";");
+            in(5, "n = size(#" + term + ");");
+            in(5, "if (" + term + " == #none) {}");
+            in(5, "if (" + term + " < #(r)) {}");
+            in(5, "n = size(r) + size(#" + term + ") * n;");
+        }
+        String[] arrays = {"r", "none", "(r)", "((none))", "make(n)", "make(n + n)", "F.g"};
+        for (String term : arrays) {
+            in(5, "n = #" + term + ";");
+            in(5, "n = n + #" + term + ";");
+            in(5, "n = #" + term + " + n;");
+            in(5, "n = n * n - #" + term + " * n;");
+            in(5, "n = -#" + term + ";");
+            in(5, "n = r[#" + term + "];");
+            in(5, "n = make(#" + term + ");");
+            in(5, "r[n] = #" + term + ";");
+            in(5, "r[#" + term + "] = n;");
+            in(5, "fail #" + term + ";");
+            in(5, "switch (#" + term + ") {");
+            in(5, "if (n + n == #" + term + ") {");
+            in(5, "if (#" + term + " < none) {");
+            in(5, "if (#" + term + " == r) {");
+            in(5, "if (#" + term + " == n) {");
+            in(4, "n = #F.h(" + term + ");");
+            fine("if (" + term + " == none) {} if (" + term + " != (none)) {}");
+            fine("drop " + term + "; r = " + term + "; n = " + term + "[n]; " + term + "[n] = n;");
+        }
     }
 
     /** "10 the end is REACHED though there is a result" */
@@ -368,6 +409,12 @@ public final class JudgeEdgeTest {
         for (String one : reached) {
             error(10, "number k(number n) {" + one + "#}");
             good("void k(number n) {" + one.replace("give n", "fail n").replaceAll("give .;", "end;") + "}");
+        }
+        // No statement but those that are told leaves.
+        String[] others = {"n = 1;", "n += 1;", "n += 1000;", "F.f = n;", "F.g = r;", "r[n] = n;", "drop n;", "F.v();", "make(1)[0] = 2;"};
+        for (String one : others) {
+            error(10, "number k(number n, array r) {" + one + "#}");
+            error(10, "number k(number n, array r) { give 1; " + one + "#}");
         }
     }
 

@@ -38,6 +38,17 @@ final class Kit {
             return this;
         }
 
+        /** The acts of another code behind these; its labels are those of this one. */
+        Code add(Code other) {
+            for (Map.Entry<String, Integer> label : other.labels.entrySet()) {
+                labels.put(label.getKey(), length + label.getValue());
+            }
+            acts.addAll(other.acts);
+            goals.addAll(other.goals);
+            length += other.length;
+            return this;
+        }
+
         /** A switch: "d 1:a 5:b" goes to d, with 1 to a, with 5 to b. */
         Code choose(String goal) {
             String[] parts = goal.split(" ");

@@ -6,6 +6,9 @@ public final class SideEdgeTest {
         shifting();
         comparing();
         keys();
+        below();
+        belowCalls();
+        lastLocals();
         makingArrays();
         elements();
         arraysThatAreNone();
@@ -155,6 +158,83 @@ public final class SideEdgeTest {
             }
             gives("of 40 keys, " + n, n, 0, code.at("d").op(1, 9).op(45), n < 1 || n > 40 ? 9 : 50 + n);
         }
+    }
+
+    /** What lies below what an act takes stays there. */
+    private static void below() {
+        for (int op = 28; op < 42; op++) {
+            for (long a : new long[] {-1, 0, 1}) {
+                Kit.Code code = Kit.code().op(4, 1);
+                code = op < 34 ? code.op(4, 0).op(1, 0) : op < 40 ? code.op(4, 0) : code.op(3);
+                gives("below op " + op, a, 77, code.go(op, "a").op(0).at("a").op(45), 77);
+            }
+        }
+        gives("below a switch", 5, 77, Kit.code().op(4, 1).op(4, 0).choose("d 5:e").at("e").op(0).at("d").op(45), 77);
+        for (int op = 9; op <= 18; op++) {
+            gives("below op " + op, 7, 77, Kit.code().op(4, 1).op(4, 0).op(4, 0).op(op).op(20).op(45), 77);
+        }
+        gives("below what is turned", 5, 77, Kit.code().op(4, 1).op(4, 0).op(1, 9).op(22).op(10).op(9).op(45), 77 + 4);
+        gives("y, x, y", 5, 77, Kit.code().op(4, 0).op(4, 1).op(23).op(10).op(9).op(45), 77 + 5 - 77);
+        gives("twice", 5, 77, Kit.code().op(4, 1).op(4, 0).op(21).op(11).op(10).op(45), 77 - 25);
+        // What stands behind a switch's keys is none of them: 0, 0, 0, 5 0, 46.
+        gives("behind the keys", 5, 0, Kit.code().op(4, 0).choose("13 4:13").op(45).op(4, 1).op(45).op(0).op(0).op(0).op(5, 0).op(47), 0);
+    }
+
+    /** What lies below a call's terms is there when it comes back, with a result above it or without. */
+    private static void belowCalls() {
+        for (String result : new String[] {"N", "A", "V"}) {
+            Kit kit = new Kit("F");
+            int other = kit.member("F", "other", "NAN" + result);
+            Kit.Code code = Kit.code().op(4, 1).op(4, 0).op(3).op(1, 9).of(44, other);
+            code = result.equals("A") ? code.op(27).op(10) : result.equals("N") ? code.op(10) : code;
+            kit.own("m", "NNN", 2, 60, code.op(45));
+            Kit.Code gives = Kit.code().op(1, 50).op(4, 0).op(4, 2).op(10);
+            gives = result.equals("A") ? gives.op(24).op(45) : result.equals("N") ? gives.op(45) : gives.op(46);
+            SourceBack x = with(kit.own("other", "NAN" + result, 3, 60, gives));
+            for (int side = 0; side < 2; side++) {
+                x.call(side, 0, 0, 30, 77);
+                x.steps(side, 99);
+                state("with " + result, x, side, 2, result.equals("V") ? 77 : 77 - 21);
+            }
+        }
+    }
+
+    /** 60 locals and 60 values on the pile, and two calls with both. */
+    private static void lastLocals() {
+        Kit kit = new Kit("F");
+        int inner = kit.member("F", "inner", "NNN");
+        Kit.Code code = Kit.code();
+        for (int i = 2; i < 60; i++) {
+            code.op(1, i).op(5, i);
+        }
+        for (int i = 0; i < 58; i++) {
+            code.op(4, 59 - i);
+        }
+        // 58 values lie below the two that inner takes, and its result is the 59th.
+        code.op(4, 0).op(4, 1).of(44, inner).op(4, 59);
+        for (int i = 0; i < 59; i++) {
+            code.op(9);
+        }
+        kit.own("m", "NNN", 60, 60, code.op(45));
+        Kit.Code within = Kit.code();
+        for (int i = 2; i < 60; i++) {
+            within.op(1, 100).op(5, i);
+        }
+        for (int i = 0; i < 60; i++) {
+            within.op(1, 1);
+        }
+        for (int i = 0; i < 59; i++) {
+            within.op(9);
+        }
+        kit.own("inner", "NNN", 60, 60, within.op(4, 0).op(9).op(4, 1).op(10).op(45));
+        SourceBack x = with(kit);
+        x.call(0, 0, 0, 5000, 700);
+        x.steps(0, 4000);
+        int sum = 59;
+        for (int i = 2; i < 60; i++) {
+            sum += i;
+        }
+        state("60 of both", x, 0, 2, sum + 60 + 5000 - 700);
     }
 
     private static Kit.Code size() {

@@ -20,7 +20,11 @@ public final class TextEdgeTest {
         besideAnother();
         constants();
         nothingToPutOut();
+        belowStatements();
+        belowIfs();
+        knottedVariables();
         emptyParts();
+        manyBraces();
         labels();
         looksOnce();
         leaving();
@@ -97,56 +101,77 @@ public final class TextEdgeTest {
         }
     }
 
-    /** Ifs in one another: each one's first part gives, the next if stands in its else. Polished, they are short. */
-    private static Kit.Code ifs(int n) {
+    /**
+     * So many ifs in one another, and some acts within the last: each if's first part gives, its other part is the next
+     * if. Polished, they stand behind each other, so that the judge finds nothing deep.
+     */
+    private static Kit.Code within(int ifs, Kit.Code acts) {
         Kit.Code code = Kit.code();
-        for (int i = 0; i < n; i++) {
-            code.op(4, 0).op(1, i).go(28, "x" + i).op(1, i).op(45).at("x" + i);
+        for (int i = 0; i < ifs; i++) {
+            code.op(4, 0).op(1, i).go(28, "give" + i);
+        }
+        code.add(acts);
+        for (int i = 0; i < ifs; i++) {
+            code.at("give" + i).op(1, i).op(45);
         }
         return code;
     }
 
-    private static void deep(String what, int depth, Kit.Code code) {
-        has(what + ", " + depth + " deep", new Kit("F").own("m", "NN", 1, 2, code.op(4, 0).op(45)), depth <= 60);
+    /** Acts that make some more, so deep in one another. */
+    private static void deep(String what, int more, Kit.Code acts) {
+        for (int depth = 58; depth <= 62; depth++) {
+            Kit kit = new Kit("F").own("m", "NN", 1, 2, within(depth - more, acts));
+            has(what + ", " + depth + " deep", kit, depth <= 60);
+        }
+    }
+
+    private static Kit.Code give() {
+        return Kit.code().op(4, 0).op(45);
     }
 
     /** "more than 60 deep (blocks, loops, ifs, switches in one another)": as TREE makes it, ahead of polishing. */
     private static void deepIfs() {
-        for (int n = 59; n <= 62; n++) {
-            deep("ifs", n, ifs(n));
-        }
+        deep("ifs", 0, give());
+        deep("an if in the first part", 2, Kit.code().op(4, 0).go(34, "p").op(1, 7).op(45).at("p").op(4, 0).go(36, "q").op(1, 8).op(45)
+            .at("q").op(4, 0).op(45));
+        deep("an if in the other part", 2, Kit.code().op(4, 0).go(34, "p").op(4, 0).go(36, "q").op(1, 8).op(45).at("q").op(4, 0).op(45)
+            .at("p").op(1, 7).op(45));
     }
 
     private static void deepLoops() {
-        for (int n = 56; n <= 60; n++) {
-            // A loop in a loop, both with an if that goes back.
-            Kit.Code code = ifs(n).at("h").op(0).at("i").op(4, 0).go(38, "i").op(4, 0).go(36, "h");
-            deep("loops", n + 4, code);
-        }
-        for (int n = 58; n <= 61; n++) {
-            Kit.Code code = ifs(n).at("h").op(6, 0, 1).go(42, "h");
-            has("a loop, " + (n + 1) + " deep", new Kit("F").own("m", "NN", 1, 2, code), n + 1 <= 60);
-        }
+        deep("a loop", 1, Kit.code().at("h").op(6, 0, 1).go(42, "h"));
+        deep("a loop in a loop", 4, Kit.code().at("h").op(0).at("i").op(4, 0).go(38, "i").op(4, 0).go(36, "h").op(4, 0).op(45));
+        // Both ways of the if go back, so that there is nothing within it.
+        deep("an if in a loop", 2, Kit.code().go(42, "h").at("x").op(4, 0).go(34, "h").at("h").op(6, 0, 1).go(42, "x"));
+        deep("a switch in a loop", 2, Kit.code().go(42, "h").at("x").op(4, 0).choose("h 1:h").at("h").op(6, 0, 1).go(42, "x"));
     }
 
     private static void deepSwitches() {
-        for (int n = 57; n <= 60; n++) {
-            Kit.Code code = ifs(n).op(4, 0).choose("d 5:e").at("e").op(1, 7).op(45).at("d");
-            deep("a switch", n + 1, code);
-            Kit.Code two = ifs(n).op(4, 0).choose("d 5:e").at("e").op(4, 0).choose("f 6:g").at("f").op(1, 7).op(45).at("g").op(1, 8)
-                .op(45).at("d");
-            deep("a switch in a switch", n + 2, two);
-        }
+        deep("a switch", 1, Kit.code().op(4, 0).choose("d 5:e").at("e").op(1, 7).op(45).at("d").op(4, 0).op(45));
+        deep("a switch in a case", 2, Kit.code().op(4, 0).choose("d 5:e").at("e").op(4, 0).choose("f 6:g").at("f").op(1, 7).op(45)
+            .at("g").op(1, 8).op(45).at("d").op(4, 0).op(45));
+        deep("a switch in default", 2, Kit.code().op(4, 0).choose("d 5:e").at("e").op(1, 7).op(45).at("d").op(4, 0)
+            .choose("f 6:g").at("f").op(1, 7).op(45).at("g").op(4, 0).op(45));
     }
 
-    /** A block around the ifs is one of those that are counted; polishing would take it away. */
+    /** A block around an if is one of those that are counted; polishing would take it away. */
     private static void deepBlocks() {
+        deep("an if in a block", 2, Kit.code().op(4, 0).go(34, "z").op(6, 0, 1).at("z").op(4, 0).op(45));
+        deep("an if in two blocks", 4, Kit.code().op(4, 0).go(34, "y").op(4, 0).go(36, "z").op(6, 0, 1).at("y").op(6, 0, 2).at("z")
+            .op(4, 0).op(45));
         for (int n = 58; n <= 61; n++) {
             Kit.Code code = Kit.code();
+            StringBuilder want = new StringBuilder("void m(number n0) {\n");
             for (int i = 0; i < n; i++) {
                 code.op(4, 0).go(34, "z");
+                want.append("  ".repeat(i + 1)).append("if (n0 != 0) {\n");
             }
-            has(n + " ifs in a block", new Kit("F").own("m", "NV", 1, 1, code.op(6, 0, 1).at("z").op(46)), n + 1 <= 60);
+            want.append("  ".repeat(n + 1)).append("n0 += 1;\n");
+            for (int i = n; i > 0; i--) {
+                want.append("  ".repeat(i)).append("}\n");
+            }
+            SourceBack x = taken(new Kit("F").own("m", "NV", 1, 1, code.op(6, 0, 1).at("z").op(46)));
+            Due.same(n + " ifs in a block", Kit.text(x, 0, 0), n + 1 <= 60 ? want + "  end;\n}\n" : null);
         }
     }
 
@@ -360,6 +385,79 @@ public final class TextEdgeTest {
             "  number t0;", "  t0 = n0;", "  r1[n0] = n0;", "  end;", "}");
     }
 
+    /** Local 0 as N lies below a statement's own: it is put out ahead of it. */
+    private static void below(Kit.Code statement, String line, String... behind) {
+        Kit kit = new Kit("F");
+        kit.ownField("f", 'N');
+        kit.member("F", "go", "NV");
+        kit.member("F", "get", "NN");
+        Kit.Code code = Kit.code().op(4, 0).op(4, 1);
+        SourceBack x = taken(kit.own("m", "NNAN", 3, 60, code.add(statement)));
+        StringBuilder want = new StringBuilder("number m(number n0, number n1, array r2) {\n  number t0, t1;\n  t0 = n0;\n");
+        want.append("  t1 = n1;\n  ").append(line).append("\n");
+        for (String one : behind) {
+            want.append("  ").append(one).append("\n");
+        }
+        Due.same(line, Kit.text(x, 0, 0), want + "}\n");
+    }
+
+    /** "statements all that lie below what they take (44 with a result, too)" */
+    private static void belowStatements() {
+        String give = "give t1;";
+        below(Kit.code().op(4, 1).op(5, 0).op(45), "n0 = n1;", give);
+        below(Kit.code().op(6, 0, 5).op(45), "n0 += 5;", give);
+        below(Kit.code().op(4, 1).of(8, 3).op(45), "F.f = n1;", give);
+        below(Kit.code().op(4, 1).op(20).op(45), "drop n1;", give);
+        below(Kit.code().op(4, 2).op(4, 0).op(4, 1).op(26).op(45), "r2[n0] = n1;", give);
+        below(Kit.code().op(4, 1).of(44, 6).op(45), "F.go(n1);", give);
+        below(Kit.code().op(4, 1).of(44, 9).op(45), "give F.get(n1);");
+        below(Kit.code().op(4, 1).op(45), "give n1;");
+        below(Kit.code().op(4, 1).op(47), "fail n1;");
+        // What was put out stays a temporary for those that come behind.
+        below(Kit.code().op(6, 0, 5).op(6, 0, 6).op(9).op(45), "n0 += 5;", "n0 += 6;", "give t0 + t1;");
+        SourceBack x = taken(new Kit("F").own("m", "NV", 1, 9, Kit.code().op(4, 0).op(46)));
+        Due.same("end", Kit.text(x, 0, 0), "void m(number n0) {\n  number t0;\n  t0 = n0;\n  end;\n}\n");
+    }
+
+    /** "of 28 to 43 when they have taken theirs and it was put out below them": goes to its place ahead of the if. */
+    private static void belowIfs() {
+        String[] ahead = {"number m(number n0, array r1) {", "  number t0, t1, s0;", "  t0 = n0;", "  s0 = t0;"};
+        String[] behind = {"  }", "  t1 = s0;", "  give t1;", "}"};
+        String[] conditions = {"n0 == 5", "n0 != 5", "n0 < 5", "n0 <= 5", "n0 > 5", "n0 >= 5", "n0 == 0", "n0 != 0", "n0 < 0", "n0 <= 0",
+            "n0 > 0", "n0 >= 0", "r1 == none", "r1 != none"};
+        for (int i = 0; i < conditions.length; i++) {
+            Kit.Code code = i < 6 ? Kit.code().op(4, 0).op(4, 0).op(1, 5) : Kit.code().op(4, 0).op(4, i < 12 ? 0 : 1);
+            SourceBack x = taken(new Kit("F").own("m", "NAN", 2, 60, code.go(28 + i, "a").at("a").op(45)));
+            Due.same(conditions[i], Kit.text(x, 0, 0), String.join("\n", ahead) + "\n  if (" + conditions[i] + ") {\n"
+                + String.join("\n", behind) + "\n");
+        }
+        SourceBack x = taken(new Kit("F").own("m", "NAN", 2, 60, Kit.code().op(4, 0).op(4, 0).choose("a 1:b").at("b").op(0).at("a").op(45)));
+        Due.same("switch", Kit.text(x, 0, 0), String.join("\n", "number m(number n0, array r1) {", "  number t0, t1, t2, s0;", "  t0 = n0;",
+            "  s0 = t0;", "  switch (n0) {", "    case 1: {", "      t1 = s0;", "      s0 = t1;", "    }", "    default: {", "    }", "  }",
+            "  t2 = s0;", "  give t2;", "}", ""));
+        // A jump is neither if nor switch, and no act at all goes there likewise: the term itself goes to its place.
+        for (int i = 0; i < 2; i++) {
+            Kit.Code code = Kit.code().op(4, 0).go(34, "a").op(4, 0).op(1, 3).op(9);
+            code = i == 0 ? code.go(42, "z").at("a").op(4, 0).at("z").op(45) : code.at("z").op(45).at("a").op(4, 0).go(42, "z");
+            SourceBack y = taken(new Kit("F").own("m", "NAN", 2, 60, code));
+            Due.same("jump", Kit.text(y, 0, 0), String.join("\n", "number m(number n0, array r1) {", "  number t0, s0;",
+                "  if (n0 == 0) {", "    s0 = n0;", "  } else {", "    s0 = n0 + 3;", "  }", "  t0 = s0;", "  give t0;", "}", ""));
+        }
+    }
+
+    /** "first its variables, none of them parameters, n.. by numbers, s0, then r.., q0, as far as its statements have them" */
+    private static void knottedVariables() {
+        // Local 0 is n0 and r0; a number and an array go from block to block.
+        Kit.Code code = Kit.code().op(1, 1).op(5, 0).op(3).op(4, 0).go(34, "b").at("a").op(20).op(3).op(5, 0).op(1, 2).op(5, 0).op(3).at("b")
+            .op(4, 0).go(38, "a").op(20).op(1, 7).op(4, 0).go(34, "y").at("y").op(5, 59).op(46);
+        SourceBack x = taken(new Kit("F").own("m", "V", 60, 9, code));
+        Due.same("knotted", x.member(0, 0, 7), 1);
+        String text = Kit.text(x, 0, 0);
+        String head = "void m() {\n  number n0, n59, t0, s0, at;\n  array r0, u0, u1, u2, q0;\n  n0 = 0;\n  n59 = 0;\n  s0 = 0;\n"
+            + "  r0 = none;\n  q0 = none;\n  at = 0;\n  loop {\n    switch (at) {\n      case 0: {\n        n0 = 1;\n";
+        Due.same("its variables", text.substring(0, Math.min(head.length(), text.length())), head);
+    }
+
     /** "an else that is empty is not there", "A switch always has default .. also if it is empty" */
     private static void emptyParts() {
         text("NV", 1, Kit.code().op(4, 0).go(34, "a").at("a").op(46), "void m(number n0) {", "  if (n0 == 0) {", "  }", "  end;",
@@ -370,6 +468,24 @@ public final class TextEdgeTest {
             "  switch (n0) {", "    case 1: {", "    }", "    default: {", "    }", "  }", "  end;", "}");
         text("NV", 1, Kit.code().op(4, 0).choose("a").at("a").op(46), "void m(number n0) {", "  switch (n0) {",
             "    default: {", "      end;", "    }", "  }", "}");
+    }
+
+    /** "two blanks for each { that it is in": a switch and its default are two. */
+    private static void manyBraces() {
+        int n = 45;
+        Kit.Code code = Kit.code();
+        StringBuilder want = new StringBuilder("void m(number n0) {\n");
+        for (int i = 0; i < n; i++) {
+            code.op(4, 0).choose("d" + i).at("d" + i);
+            want.append("  ".repeat(2 * i + 1)).append("switch (n0) {\n");
+            want.append("  ".repeat(2 * i + 2)).append("default: {\n");
+        }
+        want.append("  ".repeat(2 * n + 1)).append("end;\n");
+        for (int i = 2 * n; i > 0; i--) {
+            want.append("  ".repeat(i)).append("}\n");
+        }
+        SourceBack x = taken(new Kit("F").own("m", "NV", 1, 1, code.op(46)));
+        Due.same("switches", Kit.text(x, 0, 0), want + "}\n");
     }
 
     /** "l4: is there only if a next l4; is within" */

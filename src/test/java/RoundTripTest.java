@@ -30,7 +30,7 @@ public final class RoundTripTest {
         int[] again = new int[3];
         for (long seed = 1; seed <= 1200; seed++) {
             SourceBack x = new SourceBack();
-            byte[] bytes = new RoundTripTest(seed).file();
+            byte[] bytes = file(seed);
             if (Kit.take(x, bytes) < 0) {
                 continue;
             }
@@ -42,6 +42,11 @@ public final class RoundTripTest {
         Due.same("enough were taken", taken > 600 && knotted > 20, true);
         Due.same("made again in every way", again[0] > 100 && again[1] > 100 && again[2] > 50, true);
         Due.end();
+    }
+
+    /** A file with a random member and three that it may call. */
+    static byte[] file(long seed) {
+        return new RoundTripTest(seed).build();
     }
 
     private static void check(String seed, SourceBack x, byte[] bytes, Random r) {
@@ -90,7 +95,7 @@ public final class RoundTripTest {
         }
     }
 
-    private byte[] file() {
+    private byte[] build() {
         code.op(1, r.nextInt(10)).op(5, 4).op(4, 2).op(5, 5);
         if (r.nextInt(3) == 0) {
             anyJumps();
@@ -174,7 +179,7 @@ public final class RoundTripTest {
     private void nest(int depth, Deque<String> around) {
         for (int n = 1 + r.nextInt(3); n > 0; n--) {
             String u = "u" + labels++;
-            int what = depth <= 0 ? 0 : r.nextInt(12);
+            int what = depth <= 0 ? 0 : r.nextInt(13);
             if (what < 5) {
                 statement();
             } else if (what < 7) {
@@ -188,6 +193,8 @@ public final class RoundTripTest {
                 loop(depth, u, around);
             } else if (what < 10) {
                 value(u);
+            } else if (what == 12) {
+                below(u);
             } else if (what < 11) {
                 number(1);
                 code.choose(u + "d -2:" + u + "a 0:" + u + "b 1:" + u + "d 5:" + u + "a").at(u + "a");
@@ -222,17 +229,38 @@ public final class RoundTripTest {
         code.go(42, u + "h").at(u + "z").op(0);
     }
 
+    /** A value that lies below an if or a switch. */
+    private void below(String u) {
+        boolean ofNumber = r.nextBoolean();
+        value(ofNumber);
+        number(1);
+        if (r.nextBoolean()) {
+            code.go(34 + r.nextInt(6), u + "e");
+        } else {
+            code.choose(u + "e 3:" + u + "f").at(u + "f");
+        }
+        if (r.nextBoolean()) {
+            code.op(20);
+            value(ofNumber);
+        }
+        code.at(u + "e").op(5, ofNumber ? one(NUMBERS) : one(ARRAYS));
+    }
+
+    private void value(boolean ofNumber) {
+        if (ofNumber) {
+            number(1);
+        } else {
+            array(1);
+        }
+    }
+
     /** A value that goes from two blocks to a third. */
     private void value(String u) {
         boolean ofNumber = r.nextBoolean();
         number(1);
         code.go(34 + r.nextInt(6), u + "e");
         for (int part = 0; part < 2; part++) {
-            if (ofNumber) {
-                number(1);
-            } else {
-                array(1);
-            }
+            value(ofNumber);
             if (part == 0) {
                 code.go(42, u + "x").at(u + "e");
             }

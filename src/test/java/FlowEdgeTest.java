@@ -421,6 +421,15 @@ public final class FlowEdgeTest {
         Due.same("reached", y.act(0, 0, 1, 2), 1);
         Due.same("not reached", y.act(0, 1, 1, 2), 0);
         Due.same("its pile", y.act(0, 1, 1, 3), -1);
+        // The first block of a is a head, that of b is not, nor is anything of it met.
+        SourceBack z = new SourceBack();
+        Due.same("take", Kit.take(z, new Kit("F").own("a", "NV", 1, 1, Kit.code().at("h").op(4, 0).go(34, "h").go(42, "h"))
+            .own("b", "NV", 1, 1, Kit.code().op(4, 0).choose("d").at("d").op(46)).bytes()), 0);
+        for (int m = 0; m < 2; m++) {
+            Due.same("head of " + m, z.block(0, m, 0, 2), 1 - m);
+            Due.same("met of " + m, z.block(0, m, 1, 3), 0);
+            Due.same("knotted", z.member(0, m, 7), 0);
+        }
     }
 
     /** "those that were REACHED (the first one is)" */

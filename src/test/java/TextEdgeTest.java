@@ -312,6 +312,25 @@ public final class TextEdgeTest {
                 has(first + " found for " + other, kit.own("m", "V", 0, 2, code), first.equals(other));
             }
         }
+        // Eight parameters of either kind: the member's own is found, whatever they are.
+        for (int bits = 0; bits < 256; bits += 5) {
+            StringBuilder sign = new StringBuilder();
+            Kit.Code code = Kit.code();
+            StringBuilder terms = new StringBuilder();
+            for (int i = 0; i < 8; i++) {
+                boolean array = (bits >> i & 1) == 1;
+                sign.append(array ? 'A' : 'N');
+                code = array ? code.op(3) : code.op(1, i);
+                terms.append(i > 0 ? ", " : "").append(array ? "none" : "" + i);
+            }
+            Kit kit = new Kit("F");
+            kit.member("G", "h", "AANNAANNA");
+            kit.member("G", "h", sign.substring(0, 7) + "V");
+            int entry = kit.member("G", "h", sign + "V");
+            SourceBack x = taken(kit.own("m", "V", 0, 8, code.of(44, entry).op(46)));
+            String want = "void m() {\n  G.h(" + terms + ");\n  end;\n}\n";
+            Due.same(sign.toString(), Kit.text(x, 0, 0), sign.toString().equals("AANNAANN") ? null : want);
+        }
         Kit kinds = new Kit("F");
         kinds.member("G", "h", "AA");
         int entry = kinds.member("G", "h", "NN");

@@ -15,6 +15,7 @@ public final class EditEdgeTest {
         firstEntry();
         ruleOfRounds();
         entriesAbove();
+        longerThanATape();
         otherHead();
         headBehindAllElse();
         nothingChanged();
@@ -300,6 +301,37 @@ public final class EditEdgeTest {
             Due.same("two new", Kit.edit(x, 0, 0, "void m() { drop 2000; drop 3000; }"), spare >= 2 ? 0 : -2);
             Due.same("entries", x.file(0, 1), spare >= 2 ? 2000 : 2000 - spare);
         }
+    }
+
+    /** "Files that grow by edits may be longer than a tape": so many bytes need more than 512 calls. */
+    private static void longerThanATape() {
+        Kit kit = new Kit("F");
+        for (int m = 0; m < 17; m++) {
+            kit.own("m" + m, "NN", 1, 1, Kit.code().op(1, m).op(45));
+        }
+        SourceBack x = new SourceBack();
+        Due.same("take", Kit.take(x, kit.bytes()), 0);
+        int length = kit.bytes().length;
+        for (int m = 0; m < 17; m++) {
+            // 499 times 8 bytes and 3 and 3: 3998 in the place of 3.
+            String text = "number m" + m + "(number n){" + "n+=999;".repeat(499) + "n+=" + m + ";give n;}";
+            Due.same("edit " + m, Kit.edit(x, 0, m, text), 0);
+            Due.same("bytes", x.file(0, 4), length + 9 + (m + 1) * 3995);
+        }
+        Due.same("longer than a tape", x.file(0, 4) > 65536, true);
+        Due.same("its last byte", x.byteAt(0, 0, x.file(0, 4) - 1), 45);
+        Due.same("behind it", x.byteAt(0, 0, x.file(0, 4)), -1);
+        for (int side = 0; side < 2; side++) {
+            x.call(side, 0, 16, 5, 0);
+            x.steps(side, 4000);
+            Due.same("the last member", x.state(side, 1), 5 + 499 * 999 + 16);
+        }
+        Due.same("the made one", x.file(0, 5) > 65536, true);
+        Due.same("undo", x.undo(0), true);
+        Due.same("bytes", x.file(0, 4), length + 9 + 16 * 3995);
+        x.call(0, 0, 16, 5, 0);
+        x.steps(0, 4000);
+        Due.same("as it was", x.state(0, 1), 16);
     }
 
     /** "12, behind all others, at its first token: its name, parameters' kinds or result are others" */

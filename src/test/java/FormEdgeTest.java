@@ -35,6 +35,7 @@ public final class FormEdgeTest {
         bytesBehind();
         sameName();
         fullSet();
+        longestTape();
         leastOfOnePlace();
         Due.end();
     }
@@ -617,6 +618,41 @@ public final class FormEdgeTest {
         Due.same("files", x.count(1), 16);
         Due.same("the last one", x.file(15, 1), 1);
         Due.same("none behind it", x.file(16, 1), -1);
+    }
+
+    /** A file as long as a tape may be, and rules at its end; so many bytes need more than 512 calls. */
+    private static void longestTape() {
+        Kit kit = new Kit("F");
+        for (int m = 0; m < 16; m++) {
+            kit.own("m" + m, "V", 0, 0, Kit.code().op(46));
+        }
+        // A member's code of one byte becomes one of 4000, and the last one's as long as is left.
+        byte[] small = kit.bytes();
+        int left = 65536 - small.length;
+        Kit large = new Kit("F");
+        for (int m = 0; m < 16; m++) {
+            int more = m == 15 ? 0 : Math.min(3999, left);
+            left -= more;
+            byte[] code = new byte[1 + more];
+            code[more] = 46;
+            large.own(large.member("F", "m" + m, "V"), 0, 0, code);
+        }
+        large.twice = true;
+        while (left > 0) {
+            int n = left > 62 ? 30 : left > 32 ? left / 2 - 2 : left - 2;
+            large.name("a".repeat(n));
+            left -= n + 2;
+        }
+        byte[] bytes = large.bytes();
+        Due.same("bytes", bytes.length, 65536);
+        SourceBack x = new SourceBack();
+        Due.same("take", Kit.take(x, bytes), 0);
+        Due.same("bytes", x.file(0, 4), 65536);
+        Due.same("the last byte", x.byteAt(0, 0, 65535), 46);
+        Due.same("behind it", x.byteAt(0, 0, 65536), -1);
+        refused("the last act falls", with(bytes, 65535, 0), 22, 65535);
+        refused("the last op is none", with(bytes, 65535, 48), 12, 65535);
+        refused("one byte fewer", cut(bytes, 65535), 1, 65535);
     }
 
     /** "reading goes from left to right; of one place the least" */

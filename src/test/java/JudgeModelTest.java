@@ -1,16 +1,18 @@
 import java.util.ArrayList;
 import java.util.HashMap;
 import java.util.HashSet;
+import java.util.LinkedHashMap;
 import java.util.List;
 import java.util.Map;
 import java.util.Random;
 import java.util.Set;
+import java.util.TreeMap;
 import java.util.regex.Matcher;
 import java.util.regex.Pattern;
 
 /**
- * Terms 9 on texts that were spoilt at random: the judge against a plain model that goes down the grammar. The pile and
- * the length of the code are left out; JudgeEdgeTest has them.
+ * Terms 9 and 10 on texts that were spoilt at random: the judge, and the code that edit makes, against a plain model that
+ * goes down the grammar. A pile above 60 and a code above 4000 are left out; JudgeEdgeTest has them.
  */
 public final class JudgeModelTest {
     private static final Set<String> LANGUAGE = Set.of("number", "array", "void", "give", "end", "fail", "drop", "if", "else", "loop",
@@ -31,34 +33,66 @@ public final class JudgeModelTest {
         }
     }
 
-    /** What is known of a term: N, A or V, its first token, and whether it is none (in brackets, too), a variable .. */
+    /** What is known of a term: N, A or V, its first token, and whether it is none, or the constant 0, in brackets, too. */
     private static final class Term {
         final char kind;
         final int place;
         final boolean none;
+        final boolean zero;
 
-        Term(char kind, int place, boolean none) {
+        Term(char kind, int place, boolean none, boolean zero) {
             this.kind = kind;
             this.place = place;
             this.none = none;
+            this.zero = zero;
+        }
+
+        Term(char kind, int place) {
+            this(kind, place, false, false);
+        }
+    }
+
+    /** An act that is made: what it has, a jump's or switch's label, a switch's keys with their labels. */
+    private static final class Act {
+        final int op;
+        final long has;
+        final int more;
+        final TreeMap<Long, Integer> keys = new TreeMap<>();
+
+        Act(int op, long has, int more) {
+            this.op = op;
+            this.has = has;
+            this.more = more;
+        }
+
+        int size() {
+            return op == 43 ? 4 + 6 * keys.size() : op == 1 || op == 4 || op == 5 ? 2
+                : op == 2 || op >= 6 && op <= 8 || op >= 28 && op <= 44 ? 3 : 1;
         }
     }
 
     /** The fields and members of the file, by owner and name, with the parameters' kinds. */
     private static final Map<String, Character> FIELDS = new HashMap<>();
     private static final Map<String, Character> MEMBERS = new HashMap<>();
+    private static final Map<String, Integer> ENTRIES = new HashMap<>();
 
     private final String text;
     private String token;
     private int start;
     private int stop;
-    private final Map<String, Character> variables = new HashMap<>();
+    private final Map<String, Character> variables = new LinkedHashMap<>();
     private char result;
     private int blocks;
     private int brackets;
-    /** Labels around, and whether each is a loop's; those that a break goes to. */
+    /** Labels around, and whether each is a loop's; where its break or next goes; those that a break goes to. */
     private final Map<String, Boolean> around = new HashMap<>();
+    private final Map<String, Integer> goals = new HashMap<>();
     private final Set<String> broken = new HashSet<>();
+
+    private final List<Act> acts = new ArrayList<>();
+    /** The act that a label stands at. */
+    private final List<Integer> labels = new ArrayList<>();
+    private final List<Long> numbers = new ArrayList<>();
 
     private JudgeModelTest(String text) {
         this.text = text;
@@ -74,15 +108,17 @@ public final class JudgeModelTest {
         MEMBERS.put("F.m:NNAA", 'N');
         MEMBERS.put("G.y:", 'V');
         Kit kit = new Kit("F");
-        kit.ownField("f", 'N');
-        kit.ownField("g", 'A');
-        kit.field("G", "x", 'N');
-        kit.member("F", "h", "NAN");
-        kit.member("F", "v", "NV");
-        kit.member("F", "w", "AA");
-        kit.member("G", "y", "V");
+        ENTRIES.put("F.f", kit.ownField("f", 'N'));
+        ENTRIES.put("F.g", kit.ownField("g", 'A'));
+        ENTRIES.put("G.x", kit.field("G", "x", 'N'));
+        ENTRIES.put("F.h:NA", kit.member("F", "h", "NAN"));
+        ENTRIES.put("F.v:N", kit.member("F", "v", "NV"));
+        ENTRIES.put("F.w:A", kit.member("F", "w", "AA"));
+        ENTRIES.put("G.y:", kit.member("G", "y", "V"));
         kit.own("m", "NNAAN", 4, 1, Kit.code().op(4, 0).op(45));
+        ENTRIES.put("F.m:NNAA", kit.member("F", "m", "NNAAN"));
         int[] told = new int[16];
+        int edited = 0;
         List<String> texts = texts();
         Random r = new Random(5);
         for (int i = 0; i < 40000; i++) {
@@ -92,10 +128,17 @@ public final class JudgeModelTest {
             }
             SourceBack x = new SourceBack();
             Kit.take(x, kit.bytes());
-            int due = new JudgeModelTest(text).told();
+            JudgeModelTest model = new JudgeModelTest(text);
+            int due = model.told();
             told[due % 16]++;
-            Due.same("text " + i + " " + (text.length() > 300 ? "" : text), Kit.judge(x, 0, text), due);
+            String what = "text " + i + " " + (text.length() > 300 ? "" : text);
+            Due.same(what, Kit.judge(x, 0, text), due);
+            if (due == 0 && text.startsWith("number m(") && Kit.edit(x, 0, 0, text) == 0) {
+                model.compare(what, x);
+                edited++;
+            }
         }
+        Due.same("many were edited", edited > 1000, true);
         boolean enough = told[0] > 1000;
         for (int error = 1; error <= 7; error++) {
             enough = enough && told[error] > 30;
@@ -185,6 +228,99 @@ public final class JudgeModelTest {
         } catch (Refused refused) {
             return refused.told;
         }
+    }
+
+    private void make(int op, long has, int more) {
+        acts.add(new Act(op, has, more));
+    }
+
+    private void makeNumber(long value) {
+        boolean small = value >= -128 && value <= 127;
+        if (!small && !numbers.contains(value)) {
+            numbers.add(value);
+        }
+        make(small ? 1 : 2, small ? value : numbers.indexOf(value), 0);
+    }
+
+    private int label() {
+        labels.add(-1);
+        return labels.size() - 1;
+    }
+
+    private void stands(int label) {
+        labels.set(label, acts.size());
+    }
+
+    private int local(String name) {
+        return new ArrayList<>(variables.keySet()).indexOf(name);
+    }
+
+    /** The made member is what the edited file has: locals, pile, new entries, code. */
+    private void compare(String what, SourceBack x) {
+        int[] places = new int[acts.size() + 1];
+        for (int i = 0; i < acts.size(); i++) {
+            places[i + 1] = places[i] + acts.get(i).size();
+        }
+        int before = 0;
+        for (int k : ENTRIES.values()) {
+            before = Math.max(before, k);
+        }
+        Kit.Code code = Kit.code();
+        int deep = 0;
+        int most = 0;
+        for (Act act : acts) {
+            code.op(bytes(act, places, before));
+            deep += grows(act);
+            most = Math.max(most, deep);
+        }
+        byte[] want = code.bytes();
+        Due.same(what + ", locals", x.member(0, 0, 1), variables.size());
+        Due.same(what + ", pile", x.member(0, 0, 2), most);
+        Due.same(what + ", bytes of code", x.member(0, 0, 3), want.length);
+        Due.same(what + ", entries", x.file(0, 1), before + numbers.size());
+        for (int i = 0; i < numbers.size(); i++) {
+            Due.same(what + ", number " + i, x.entry(0, before + 1 + i, 1), numbers.get(i));
+        }
+        byte[] all = Kit.bytes(x, 0, 0);
+        Due.same(what + ", code", java.util.Arrays.copyOfRange(all, all.length - want.length, all.length), want);
+    }
+
+    private int[] bytes(Act act, int[] places, int before) {
+        int[] bytes = new int[act.size()];
+        bytes[0] = act.op;
+        long has = act.op == 2 ? before + 1 + act.has : act.op >= 28 && act.op <= 43 ? places[labels.get((int) act.has)] : act.has;
+        if (bytes.length > 2 && act.op != 6) {
+            bytes[1] = (int) has >> 8;
+            bytes[2] = (int) has;
+        } else if (bytes.length > 1) {
+            bytes[1] = (int) has;
+        }
+        if (act.op == 6) {
+            bytes[2] = act.more;
+        }
+        if (act.op == 43) {
+            bytes[3] = act.keys.size();
+            int p = 4;
+            for (Map.Entry<Long, Integer> key : act.keys.entrySet()) {
+                for (int i = 0; i < 4; i++) {
+                    bytes[p + i] = (int) (key.getKey() >> (24 - 8 * i)) & 255;
+                }
+                bytes[p + 4] = places[labels.get(key.getValue())] >> 8;
+                bytes[p + 5] = places[labels.get(key.getValue())];
+                p += 6;
+            }
+        }
+        return bytes;
+    }
+
+    private static int grows(Act act) {
+        int op = act.op;
+        if (op == 44) {
+            return act.more;
+        }
+        return op >= 1 && op <= 4 || op == 7 ? 1 : op == 26 ? -3 : op >= 28 && op <= 33 ? -2
+            : op == 5 || op == 8 || op >= 9 && op <= 18 || op == 20 || op == 25 || op >= 34 && op <= 41 || op == 43 || op == 45 || op == 47
+            ? -1 : 0;
     }
 
     private static boolean wordSign(char c) {
@@ -293,6 +429,9 @@ public final class JudgeModelTest {
         if (!leaves && result != 'V') {
             throw new Refused(10, start);
         }
+        if (!leaves) {
+            make(46, 0, 0);
+        }
         next();
         if (!is("")) {
             throw new Refused(1, start);
@@ -355,6 +494,7 @@ public final class JudgeModelTest {
                 }
                 next();
                 need(term(0), result);
+                make(45, 0, 0);
                 expect(";");
                 return true;
             case "end":
@@ -362,16 +502,19 @@ public final class JudgeModelTest {
                     throw new Refused(5, place);
                 }
                 next();
+                make(46, 0, 0);
                 expect(";");
                 return true;
             case "fail":
                 next();
                 need(term(0), 'N');
+                make(47, 0, 0);
                 expect(";");
                 return true;
             case "drop":
                 next();
                 term(0);
+                make(20, 0, 0);
                 expect(";");
                 return false;
             case "break":
@@ -381,19 +524,11 @@ public final class JudgeModelTest {
             case "if":
                 deeper(place);
                 next();
-                condition();
-                boolean first = list();
-                boolean both = false;
-                if (is("else")) {
-                    next();
-                    both = list() && first;
-                }
-                blocks--;
-                return both;
+                return choose();
             case "loop":
             case "while":
                 deeper(place);
-                return loop();
+                return loop(label());
             case "switch":
                 deeper(place);
                 return choice();
@@ -406,6 +541,29 @@ public final class JudgeModelTest {
         }
     }
 
+    private boolean choose() {
+        int other = label();
+        condition(other);
+        boolean first = list();
+        boolean both = false;
+        if (!is("else")) {
+            stands(other);
+        } else {
+            next();
+            expect("{");
+            int end = label();
+            if (!is("}") && !first) {
+                make(42, end, 0);
+            }
+            stands(other);
+            both = statements() && first;
+            next();
+            stands(end);
+        }
+        blocks--;
+        return both;
+    }
+
     private void goes(boolean loop) {
         next();
         int place = start;
@@ -416,17 +574,23 @@ public final class JudgeModelTest {
             throw new Refused(3, place);
         }
         broken.add(token);
+        make(42, goals.get(token), 0);
         next();
         expect(";");
     }
 
-    private boolean loop() {
+    private boolean loop(int begin) {
         boolean endless = is("loop");
+        int end = label();
+        stands(begin);
         next();
         if (!endless) {
-            condition();
+            condition(end);
         }
-        list();
+        if (!list()) {
+            make(42, begin, 0);
+        }
+        stands(end);
         blocks--;
         return endless;
     }
@@ -437,30 +601,41 @@ public final class JudgeModelTest {
         need(term(0), 'N');
         expect(")");
         expect("{");
-        Set<Long> keys = new HashSet<>();
+        int other = label();
+        int end = label();
+        make(43, other, 0);
+        TreeMap<Long, Integer> keys = acts.get(acts.size() - 1).keys;
         boolean leaves = true;
         while (!is("default")) {
             expect("case");
-            key(keys);
+            int part = label();
+            stands(part);
+            key(keys, part);
             while (is(",")) {
                 next();
-                key(keys);
+                key(keys, part);
             }
             expect(":");
-            leaves = list() && leaves;
+            boolean one = list();
+            leaves = leaves && one;
+            if (!one) {
+                make(42, end, 0);
+            }
         }
         next();
         expect(":");
+        stands(other);
         leaves = list() && leaves;
+        stands(end);
         expect("}");
         blocks--;
         return leaves;
     }
 
-    private void key(Set<Long> keys) {
+    private void key(TreeMap<Long, Integer> keys, int part) {
         int place = start;
         long key = number(-2147483648L, 2147483647);
-        if (!keys.add(key)) {
+        if (keys.put(key, part) != null) {
             throw new Refused(7, place);
         }
         if (keys.size() > 40) {
@@ -486,7 +661,8 @@ public final class JudgeModelTest {
         return value.longValue();
     }
 
-    private void condition() {
+    /** To a label if it is not so. */
+    private void condition(int other) {
         expect("(");
         Term left = term(0);
         String sign = token;
@@ -502,6 +678,11 @@ public final class JudgeModelTest {
         if (left.kind == 'N' && right.kind != 'N') {
             throw new Refused(5, right.place);
         }
+        int not = new int[] {1, 0, 5, 4, 3, 2}[CONDITIONS.indexOf(sign)];
+        if (left.kind == 'A' || right.zero) {
+            acts.remove(acts.size() - 1);
+        }
+        make((left.kind == 'A' ? 40 : right.zero ? 34 : 28) + not, other, 0);
         expect(")");
     }
 
@@ -533,26 +714,40 @@ public final class JudgeModelTest {
                 return false;
             }
             char kind = field(name, other, place);
-            return set(new Term(kind, place, false));
+            return set(new Term(kind, place), 7, ENTRIES.get(name + "." + other));
         }
         char kind = variable(name, place);
         if (is("+=")) {
-            need(new Term(kind, place, false), 'N');
+            need(new Term(kind, place), 'N');
             next();
-            number(Long.MIN_VALUE, Long.MAX_VALUE);
+            grow(local(name), number(Long.MIN_VALUE, Long.MAX_VALUE));
             next();
             expect(";");
             return false;
         }
-        return set(new Term(kind, place, false));
+        return set(new Term(kind, place), 4, local(name));
     }
 
-    private boolean set(Term target) {
+    private void grow(int local, long by) {
+        if (by >= -128 && by <= 127) {
+            make(6, local, (int) by);
+        } else {
+            make(4, local, 0);
+            makeNumber(by);
+            make(9, 0, 0);
+            make(5, local, 0);
+        }
+    }
+
+    /** A variable (load 4) or a field (load 7) that is set, or an element of it. */
+    private boolean set(Term target, int load, int has) {
         if (is("=")) {
             next();
             need(term(0), target.kind);
+            make(load + 1, has, 0);
             expect(";");
         } else {
+            make(load, has, 0);
             element(target);
         }
         return false;
@@ -582,10 +777,13 @@ public final class JudgeModelTest {
         boolean loop = is("loop") || is("while");
         around.put(label, loop);
         broken.remove(label);
+        int goal = label();
+        goals.put(label, goal);
         if (loop) {
-            leaves = loop();
+            leaves = loop(goal);
         } else {
             leaves = list() && !broken.contains(label);
+            stands(goal);
             blocks--;
         }
         around.remove(label);
@@ -600,9 +798,13 @@ public final class JudgeModelTest {
         Term now = first;
         while (is("[")) {
             now = index(now);
+            if (is("[")) {
+                make(25, 0, 0);
+            }
         }
         expect("=");
         need(term(0), 'N');
+        make(26, 0, 0);
         expect(";");
     }
 
@@ -612,7 +814,7 @@ public final class JudgeModelTest {
         need(term(0), 'N');
         expect("]");
         brackets--;
-        return new Term('N', array.place, false);
+        return new Term('N', array.place);
     }
 
     private void bracket() {
@@ -645,8 +847,9 @@ public final class JudgeModelTest {
             throw new Refused(5, place);
         }
         brackets--;
+        make(44, ENTRIES.get(owner + "." + name + ":" + kinds), (given == 'V' ? 0 : 1) - kinds.length());
         next();
-        return given == 'V' ? new Term('V', place, false) : behind(new Term(given, place, false));
+        return given == 'V' ? new Term('V', place) : behind(new Term(given, place));
     }
 
     /** A term that is read: the token behind it must be one. */
@@ -664,9 +867,11 @@ public final class JudgeModelTest {
         Term left = term(rank + 1);
         while (RANKS.get(rank).contains(token)) {
             need(left, 'N');
+            int op = 9 + List.of("+", "-", "*", "/", "%", "&", "|", "^", "<<", ">>").indexOf(token);
             next();
             need(term(rank + 1), 'N');
-            left = new Term('N', left.place, false);
+            make(op, 0, 0);
+            left = new Term('N', left.place);
         }
         return left;
     }
@@ -676,12 +881,14 @@ public final class JudgeModelTest {
         if (is("-") && !isMinusOfDigits()) {
             bracket();
             need(front(), 'N');
+            make(19, 0, 0);
             brackets--;
-            return new Term('N', place, false);
+            return new Term('N', place);
         }
         Term now = first(true);
         while (is("[")) {
             now = behind(index(now));
+            make(25, 0, 0);
         }
         return now;
     }
@@ -689,23 +896,18 @@ public final class JudgeModelTest {
     private Term first(boolean within) {
         int place = start;
         if (isDigits() || isMinusOfDigits()) {
-            number(Long.MIN_VALUE, Long.MAX_VALUE);
+            long value = number(Long.MIN_VALUE, Long.MAX_VALUE);
+            makeNumber(value);
             next();
-            return behind(new Term('N', place, false));
+            return behind(new Term('N', place, false, value == 0));
         }
         if (isWord() && within) {
-            String name = token;
-            next();
-            if (!is(".")) {
-                return behind(new Term(variable(name, place), place, false));
-            }
-            next();
-            String other = word();
-            return is("(") ? call(name, other, place, false) : behind(new Term(field(name, other, place), place, false));
+            return word(place);
         }
         if (is("none")) {
+            make(3, 0, 0);
             next();
-            return behind(new Term('A', place, true));
+            return behind(new Term('A', place, true, false));
         }
         boolean make = is("make");
         if (make || is("size")) {
@@ -715,9 +917,10 @@ public final class JudgeModelTest {
             }
             bracket();
             need(term(0), make ? 'N' : 'A');
+            make(make ? 24 : 27, 0, 0);
             expect(")");
             brackets--;
-            return behind(new Term(make ? 'A' : 'N', place, false));
+            return behind(new Term(make ? 'A' : 'N', place));
         }
         if (!is("(")) {
             throw new Refused(1, place);
@@ -726,6 +929,25 @@ public final class JudgeModelTest {
         Term inner = term(0);
         expect(")");
         brackets--;
-        return behind(new Term(inner.kind, place, inner.none));
+        return behind(new Term(inner.kind, place, inner.none, inner.zero));
+    }
+
+    /** A first that begins with a name. */
+    private Term word(int place) {
+        String name = token;
+        next();
+        if (!is(".")) {
+            char kind = variable(name, place);
+            make(4, local(name), 0);
+            return behind(new Term(kind, place));
+        }
+        next();
+        String other = word();
+        if (is("(")) {
+            return call(name, other, place, false);
+        }
+        char kind = field(name, other, place);
+        make(7, ENTRIES.get(name + "." + other), 0);
+        return behind(new Term(kind, place));
     }
 }

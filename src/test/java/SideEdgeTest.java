@@ -208,7 +208,7 @@ public final class SideEdgeTest {
             code.op(1, i).op(5, i);
         }
         for (int i = 0; i < 58; i++) {
-            code.op(4, 59 - i);
+            code.op(4, 2 + i);
         }
         // 58 values lie below the two that inner takes, and its result is the 59th.
         code.op(4, 0).op(4, 1).of(44, inner).op(4, 59);

@@ -58,8 +58,8 @@ public final class TextModelTest {
     private final byte[] code;
     private final int acts;
     private final List<Term> pile = new ArrayList<>();
-    private final Node[] loops = new Node[200];
-    private final Node[] blocks = new Node[200];
+    private final Node[] loops = new Node[300];
+    private final Node[] blocks = new Node[300];
     private Node dispatcher;
     private int numbers;
     private int arrays;
@@ -68,9 +68,9 @@ public final class TextModelTest {
         this.x = x;
         acts = x.member(0, 0, 4);
         byte[] bytes = Kit.bytes(x, 0, 0);
-        // The random member is the first of four; those behind it have 6 bytes each beside their code.
+        // The member is the file's first; those behind it have 6 bytes each beside their code.
         int behind = 0;
-        for (int m = 1; m < 4; m++) {
+        for (int m = 1; m < x.file(0, 3); m++) {
             behind += 6 + x.member(0, m, 3);
         }
         int end = bytes.length - behind;
@@ -85,16 +85,58 @@ public final class TextModelTest {
             if (Kit.take(x, RoundTripTest.file(seed)) < 0) {
                 continue;
             }
-            String want = new TextModelTest(x).text();
-            if (want != null && (want.length() > 20000 || Kit.judge(x, 0, want) != 0)) {
-                want = null;
-            }
-            texts += want == null ? 0 : 1;
-            without += want == null ? 1 : 0;
-            Due.same("seed " + seed + ", text", Kit.text(x, 0, 0), want);
+            boolean shown = compare("seed " + seed, x);
+            texts += shown ? 1 : 0;
+            without += shown ? 0 : 1;
         }
         Due.same("enough texts", texts > 1000 && without < texts / 10, true);
+        for (int n = 1; n <= 62; n++) {
+            for (int shape = 0; shape < 6; shape++) {
+                SourceBack x = new SourceBack();
+                Kit kit = new Kit("F").own("m", "NNN", 2, 2, nest(shape, n));
+                Due.same("take", Kit.take(x, kit.bytes()), 0);
+                compare("shape " + shape + ", " + n + " deep", x);
+            }
+        }
         Due.end();
+    }
+
+    /** Whether there is a text; it must be the model's. */
+    private static boolean compare(String what, SourceBack x) {
+        String want = new TextModelTest(x).text();
+        if (want != null && (want.length() > 20000 || Kit.judge(x, 0, want) != 0)) {
+            want = null;
+        }
+        Due.same(what + ", text", Kit.text(x, 0, 0), want);
+        return want != null;
+    }
+
+    /** Ifs, loops or switches in one another, and within the last some that polishing changes. */
+    private static Kit.Code nest(int shape, int n) {
+        Kit.Code code = Kit.code();
+        for (int i = 0; i < n; i++) {
+            code.at("h" + i).op(4, 1).op(1, i);
+            if (shape == 0) {
+                code.go(28, "x" + i).op(1, i).op(45).at("x" + i);
+            } else if (shape == 1) {
+                code.go(28, "g" + i);
+            } else if (shape == 2) {
+                code.go(28, "z");
+            } else if (shape == 3) {
+                code.op(20).choose("d" + i).at("d" + i);
+            } else {
+                code.go(28, "g" + i);
+            }
+        }
+        code.op(4, 0).go(34, "a").op(6, 0, 1).op(4, 1).go(36, "b").op(6, 0, 2).go(42, "c").at("b").op(6, 0, 3).at("c").op(6, 1, 1).at("a");
+        for (int i = n - 1; i >= 0 && shape > 3; i--) {
+            code.op(4, 1).op(1, i).go(shape == 4 ? 28 : 31, "h" + (shape == 4 ? i : i / 2));
+        }
+        code.op(6, 0, 4).at("z").op(4, 0).op(45);
+        for (int i = 0; i < n; i++) {
+            code.at("g" + i).op(1, i).op(45);
+        }
+        return code;
     }
 
     private int op(int act) {

@@ -1,4 +1,5 @@
 import java.util.ArrayList;
+import java.util.Collections;
 import java.util.HashMap;
 import java.util.HashSet;
 import java.util.LinkedHashMap;
@@ -7,6 +8,8 @@ import java.util.Map;
 import java.util.Random;
 import java.util.Set;
 import java.util.TreeMap;
+import java.util.function.IntUnaryOperator;
+import java.util.function.LongToIntFunction;
 import java.util.regex.Matcher;
 import java.util.regex.Pattern;
 
@@ -255,27 +258,64 @@ public final class JudgeModelTest {
         return new ArrayList<>(variables.keySet()).indexOf(name);
     }
 
-    /** The made member is what the edited file has: locals, pile, new entries, code. */
-    private void compare(String what, SourceBack x) {
+    /** Forgets all fields and members. */
+    static void forget() {
+        FIELDS.clear();
+        MEMBERS.clear();
+        ENTRIES.clear();
+    }
+
+    /** A field ("F.f:N") or member ("F.m(NA)V") with its entry, unless one that is found earlier is known. */
+    static void know(String said, int entry) {
+        int bracket = said.indexOf('(');
+        String key = bracket < 0 ? said.substring(0, said.indexOf(':'))
+            : said.substring(0, bracket) + ":" + said.substring(bracket + 1, said.length() - 2);
+        (bracket < 0 ? FIELDS : MEMBERS).putIfAbsent(key, said.charAt(said.length() - 1));
+        ENTRIES.putIfAbsent(key, entry);
+    }
+
+    /** A text without an error that has been read. */
+    static JudgeModelTest read(String text) {
+        JudgeModelTest model = new JudgeModelTest(text);
+        Due.same("judge " + text, model.told(), 0);
+        return model;
+    }
+
+    int locals() {
+        return variables.size();
+    }
+
+    int pile() {
+        int deep = 0;
+        int most = 0;
+        for (Act act : acts) {
+            deep += grows(act);
+            most = Math.max(most, deep);
+        }
+        return most;
+    }
+
+    /** The bytes of the code, with the entries that others tell for the file's entries and for numbers. */
+    byte[] code(IntUnaryOperator entry, LongToIntFunction number) {
         int[] places = new int[acts.size() + 1];
         for (int i = 0; i < acts.size(); i++) {
             places[i + 1] = places[i] + acts.get(i).size();
         }
-        int before = 0;
-        for (int k : ENTRIES.values()) {
-            before = Math.max(before, k);
-        }
         Kit.Code code = Kit.code();
-        int deep = 0;
-        int most = 0;
         for (Act act : acts) {
-            code.op(bytes(act, places, before));
-            deep += grows(act);
-            most = Math.max(most, deep);
+            boolean asks = act.op == 7 || act.op == 8 || act.op == 44;
+            code.op(bytes(act, places, act.op == 2 ? number.applyAsInt(numbers.get((int) act.has))
+                : asks ? entry.applyAsInt((int) act.has) : act.has));
         }
-        byte[] want = code.bytes();
-        Due.same(what + ", locals", x.member(0, 0, 1), variables.size());
-        Due.same(what + ", pile", x.member(0, 0, 2), most);
+        return code.bytes();
+    }
+
+    /** The made member is what the edited file has: locals, pile, new entries, code. */
+    private void compare(String what, SourceBack x) {
+        int before = Collections.max(ENTRIES.values());
+        byte[] want = code(k -> k, value -> before + 1 + numbers.indexOf(value));
+        Due.same(what + ", locals", x.member(0, 0, 1), locals());
+        Due.same(what + ", pile", x.member(0, 0, 2), pile());
         Due.same(what + ", bytes of code", x.member(0, 0, 3), want.length);
         Due.same(what + ", entries", x.file(0, 1), before + numbers.size());
         for (int i = 0; i < numbers.size(); i++) {
@@ -285,10 +325,10 @@ public final class JudgeModelTest {
         Due.same(what + ", code", java.util.Arrays.copyOfRange(all, all.length - want.length, all.length), want);
     }
 
-    private int[] bytes(Act act, int[] places, int before) {
+    private int[] bytes(Act act, int[] places, long asked) {
         int[] bytes = new int[act.size()];
         bytes[0] = act.op;
-        long has = act.op == 2 ? before + 1 + act.has : act.op >= 28 && act.op <= 43 ? places[labels.get((int) act.has)] : act.has;
+        long has = act.op >= 28 && act.op <= 43 ? places[labels.get((int) act.has)] : asked;
         if (bytes.length > 2 && act.op != 6) {
             bytes[1] = (int) has >> 8;
             bytes[2] = (int) has;

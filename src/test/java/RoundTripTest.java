@@ -11,17 +11,20 @@ public final class RoundTripTest {
     private static final long[] BIG = {1000, -1000, Long.MIN_VALUE, Long.MAX_VALUE, 5, -129, 128};
 
     private final Random r;
-    private final Kit kit = new Kit("F");
-    private final int f = kit.ownField("f", 'N');
-    private final int g = kit.ownField("g", 'A');
-    private final int h = kit.member("F", "h", "NAN");
-    private final int v = kit.member("F", "v", "NV");
-    private final int w = kit.member("F", "w", "AA");
+    private final Kit kit;
+    private final String[] others;
     private final Kit.Code code = Kit.code();
     private int labels;
 
-    private RoundTripTest(long seed) {
+    private RoundTripTest(long seed, String name, String... owners) {
         r = new Random(seed);
+        kit = new Kit(name);
+        others = owners;
+        kit.ownField("f", 'N');
+        kit.ownField("g", 'A');
+        kit.member(name, "h", "NAN");
+        kit.member(name, "v", "NV");
+        kit.member(name, "w", "AA");
     }
 
     public static void main(String[] args) {
@@ -46,7 +49,12 @@ public final class RoundTripTest {
 
     /** A file with a random member and three that it may call. */
     static byte[] file(long seed) {
-        return new RoundTripTest(seed).build();
+        return new RoundTripTest(seed, "F").build();
+    }
+
+    /** Such a file with another name; what it asks for is often of other owners. */
+    static byte[] file(long seed, String name, String... others) {
+        return new RoundTripTest(seed, name, others).build();
     }
 
     private static void check(String seed, SourceBack x, byte[] bytes, Random r) {
@@ -106,9 +114,26 @@ public final class RoundTripTest {
         code.op(45);
         kit.own("m", "NNAAN", 6, 60, code);
         kit.own("h", "NAN", 2, 60, Kit.code().op(4, 0).op(4, 1).op(27).op(9).op(45));
-        kit.own("v", "NV", 1, 60, Kit.code().op(4, 0).of(8, f).op(46));
+        kit.own("v", "NV", 1, 60, Kit.code().op(4, 0).of(8, field("f", 'N')).op(46));
         kit.own("w", "AA", 1, 60, Kit.code().op(4, 0).op(45));
         return kit.bytes();
+    }
+
+    private String owner() {
+        return others.length == 0 ? kit.owner : others[r.nextInt(others.length)];
+    }
+
+    /** Whether another owner is asked for what it does not have. */
+    private boolean astray() {
+        return others.length > 0 && r.nextInt(60) == 0;
+    }
+
+    private int field(String name, char kind) {
+        return kit.field(owner(), astray() ? "fg".replace(name, "") : name, kind);
+    }
+
+    private int called(String name, String kinds) {
+        return kit.member(owner(), astray() ? "k" : name, kinds);
     }
 
     private int one(int[] of) {
@@ -120,11 +145,11 @@ public final class RoundTripTest {
             case 0: code.op(1, r.nextInt(256)); break;
             case 1: code.of(2, kit.number(BIG[r.nextInt(BIG.length)])); break;
             case 2: code.op(4, one(NUMBERS)); break;
-            case 3: code.of(7, f); break;
+            case 3: code.of(7, field("f", 'N')); break;
             case 4: number(depth - 1); code.op(19); break;
             case 5: array(depth - 1); number(depth - 1); code.op(25); break;
             case 6: array(depth - 1); code.op(27); break;
-            case 7: number(depth - 1); array(depth - 1); code.of(44, h); break;
+            case 7: call(depth - 1); break;
             case 8: number(depth - 1); code.op(21).op(9); break;
             case 9: number(depth - 1); number(depth - 1); code.op(22).op(10); break;
             case 10: number(depth - 1); number(depth - 1); code.op(23).op(20).op(10); break;
@@ -132,13 +157,26 @@ public final class RoundTripTest {
         }
     }
 
+    private void call(int depth) {
+        number(depth);
+        if (others.length > 0 && r.nextInt(4) == 0) {
+            number(0);
+            array(0);
+            array(0);
+            code.of(44, called("m", "NNAAN"));
+        } else {
+            array(depth);
+            code.of(44, called("h", "NAN"));
+        }
+    }
+
     private void array(int depth) {
         switch (r.nextInt(depth <= 0 ? 3 : 5)) {
             case 0: code.op(4, one(ARRAYS)); break;
-            case 1: code.of(7, g); break;
+            case 1: code.of(7, field("g", 'A')); break;
             case 2: code.op(3); break;
             case 3: number(depth - 1); code.op(24); break;
-            default: array(depth - 1); code.of(44, w); break;
+            default: array(depth - 1); code.of(44, called("w", "AA")); break;
         }
     }
 
@@ -147,12 +185,12 @@ public final class RoundTripTest {
         switch (r.nextInt(10)) {
             case 0: array(depth); code.op(5, one(ARRAYS)); break;
             case 1: code.op(6, one(NUMBERS), r.nextInt(256)); break;
-            case 2: number(depth); code.of(8, f); break;
-            case 3: array(depth); code.of(8, g); break;
+            case 2: number(depth); code.of(8, field("f", 'N')); break;
+            case 3: array(depth); code.of(8, field("g", 'A')); break;
             case 4: number(depth); code.op(20); break;
             case 5: array(depth); code.op(20); break;
             case 6: array(depth); number(depth); number(depth); code.op(26); break;
-            case 7: number(depth); code.of(44, v); break;
+            case 7: number(depth); code.of(44, called("v", "NV")); break;
             default: number(depth); code.op(5, one(NUMBERS)); break;
         }
     }

@@ -9,6 +9,8 @@ public final class SourceBack {
     private static final int ENTRIES_MOST = 2000;
     private static final int ENTRIES_MADE = 65535;
     private static final int UNDOS = 8;
+    /** Of each file are kept: as it is now and as it was, by edits that can be undone; then what is made of it. */
+    private static final int KEPT = UNDOS + 2;
     private static final int SIGNS_MOST = 20000;
     private static final int DEEPEST = 60;
     private static final int PILE_MOST = 60;
@@ -60,7 +62,8 @@ public final class SourceBack {
     private int tapeLength;
     private final Form[] forms = new Form[FILES];
     private int fileCount;
-    private final Form[] past = new Form[FILES * UNDOS];
+    /** KEPT for each file; those that are not in use now are filled again. */
+    private final Form[] kept = new Form[FILES * KEPT];
     private final int[] undoable = new int[FILES];
     private int begun;
     private final Side[] sides = new Side[2];
@@ -101,10 +104,12 @@ public final class SourceBack {
         if (fileCount >= FILES) {
             return -1 - 25;
         }
-        Form form = new Form(tape, length);
+        Form form = keptAt(fileCount * KEPT);
+        form.begin(length);
+        System.arraycopy(tape, 0, form.bytes, 0, length);
         int fault = reader.read(form, ENTRIES_MOST);
         seenMember = NONE;
-        for (int m = 0; fault == 0 && m < form.members(); m++) {
+        for (int m = 0; fault == 0 && m < form.members; m++) {
             flow.loadMember(form, m);
             fault = flow.verify();
         }
@@ -128,13 +133,13 @@ public final class SourceBack {
         switch (what) {
             case 0: return form.u2(4);
             case 1: return form.entryCount;
-            case 2: return form.fieldEntry.length;
-            case 3: return form.members();
-            case 4: return form.bytes.length;
+            case 2: return form.fields;
+            case 3: return form.members;
+            case 4: return form.size;
             case 5:
-                findTexts(form, 0, form.members());
-                findMade(form);
-                return form.made == null ? NONE : form.made.bytes.length;
+                findTexts(form, 0, form.members);
+                findMade(f);
+                return form.made == null ? NONE : form.made.size;
             case 6: return undoable[f];
             default: return NONE;
         }
@@ -146,11 +151,11 @@ public final class SourceBack {
             return NONE;
         }
         if (side == 1) {
-            findTexts(form, 0, form.members());
-            findMade(form);
+            findTexts(form, 0, form.members);
+            findMade(f);
             form = form.made;
         }
-        if (form == null || i < 0 || i >= form.bytes.length) {
+        if (form == null || i < 0 || i >= form.size) {
             return NONE;
         }
         return form.u1(i);
@@ -166,7 +171,7 @@ public final class SourceBack {
 
     public int member(int f, int m, int what) {
         Form form = formOf(f);
-        if (form == null || m < 0 || m >= form.members()) {
+        if (form == null || m < 0 || m >= form.members) {
             return NONE;
         }
         switch (what) {
@@ -191,7 +196,7 @@ public final class SourceBack {
 
     public int act(int f, int m, int i, int what) {
         Form form = formOf(f);
-        if (form == null || m < 0 || m >= form.members()) {
+        if (form == null || m < 0 || m >= form.members) {
             return NONE;
         }
         look(form, m);
@@ -210,7 +215,7 @@ public final class SourceBack {
 
     public int kind(int f, int m, int act, int local) {
         Form form = formOf(f);
-        if (form == null || m < 0 || m >= form.members()) {
+        if (form == null || m < 0 || m >= form.members) {
             return NONE;
         }
         look(form, m);
@@ -226,7 +231,7 @@ public final class SourceBack {
 
     public int block(int f, int m, int b, int what) {
         Form form = formOf(f);
-        if (form == null || m < 0 || m >= form.members()) {
+        if (form == null || m < 0 || m >= form.members) {
             return NONE;
         }
         look(form, m);
@@ -245,7 +250,7 @@ public final class SourceBack {
 
     public int text(int f, int m, int i) {
         Form form = formOf(f);
-        if (form == null || m < 0 || m >= form.members()) {
+        if (form == null || m < 0 || m >= form.members) {
             return NONE;
         }
         findTexts(form, m, m + 1);
@@ -260,17 +265,17 @@ public final class SourceBack {
         if (form == null) {
             return NONE;
         }
-        return judge.read(form, Arrays.copyOf(tape, length));
+        return judge.read(form, tape, length);
     }
 
     public int edit(int f, int m) {
         int length = tapeLength;
         tapeLength = 0;
         Form form = formOf(f);
-        if (form == null || m < 0 || m >= form.members()) {
+        if (form == null || m < 0 || m >= form.members) {
             return NONE;
         }
-        int error = judge.read(form, Arrays.copyOf(tape, length));
+        int error = judge.read(form, tape, length);
         if (error == 0 && !judge.declares(form.memberEntry(m))) {
             error = 12 + 16 * judge.firstAt;
         }
@@ -285,24 +290,27 @@ public final class SourceBack {
         if (flow.verify() != 0 || form.entryCount + maker.entryCount > ENTRIES_MOST) {
             return -2;
         }
-        byte[] bytes = maker.editedFile(form, m);
-        Form edited = new Form(bytes, bytes.length);
+        Form edited = nextVersion(f);
+        maker.fillEdited(form, m, edited);
         reader.read(edited, ENTRIES_MOST);
-        edited.keepTexts(form, m);
-        remember(f, form);
+        edited.edited = m;
+        edited.learn(form, m);
         forms[f] = edited;
         beginAnew();
         return 0;
     }
 
     public boolean undo(int f) {
-        if (formOf(f) == null || undoable[f] == 0) {
+        Form undone = formOf(f);
+        if (undone == null || undoable[f] == 0) {
             return false;
         }
         undoable[f]--;
-        int place = f * UNDOS + undoable[f];
-        forms[f] = past[place];
-        past[place] = null;
+        Form earlier = keptAt(f * KEPT + undoable[f]);
+        earlier.learn(undone, undone.edited);
+        earlier.madeKnown = false;
+        earlier.made = null;
+        forms[f] = earlier;
         beginAnew();
         return true;
     }
@@ -310,7 +318,7 @@ public final class SourceBack {
     public int pair(int f, int m, int g) {
         Form form = formOf(f);
         Form other = formOf(g);
-        if (form == null || other == null || m < 0 || m >= form.members()) {
+        if (form == null || other == null || m < 0 || m >= form.members) {
             return NONE;
         }
         return other.memberLike(form, form.memberEntry(m), false);
@@ -319,7 +327,7 @@ public final class SourceBack {
     public int alike(int f, int m, int g) {
         Form form = formOf(f);
         Form other = formOf(g);
-        if (form == null || other == null || m < 0 || m >= form.members()) {
+        if (form == null || other == null || m < 0 || m >= form.members) {
             return NONE;
         }
         int found = other.memberLike(form, form.memberEntry(m), false);
@@ -337,7 +345,7 @@ public final class SourceBack {
 
     public boolean call(int side, int f, int m, long a, long b) {
         Form form = formOf(f);
-        if (form == null || m < 0 || m >= form.members() || side < 0 || side > 1) {
+        if (form == null || m < 0 || m >= form.members || side < 0 || side > 1) {
             return false;
         }
         Side stepped = sides[side];
@@ -347,8 +355,8 @@ public final class SourceBack {
         for (int g = 0; g < fileCount; g++) {
             stepped.forms[g] = forms[g];
             if (side == 1) {
-                findTexts(forms[g], 0, forms[g].members());
-                findMade(forms[g]);
+                findTexts(forms[g], 0, forms[g].members);
+                findMade(g);
                 stepped.forms[g] = forms[g].made == null ? forms[g] : forms[g].made;
             }
         }
@@ -376,7 +384,7 @@ public final class SourceBack {
 
     public long field(int side, int f, int i) throws IndexOutOfBoundsException {
         Form form = formOf(f);
-        if (side < 0 || side > 1 || form == null || i < 0 || i >= form.fieldEntry.length) {
+        if (side < 0 || side > 1 || form == null || i < 0 || i >= form.fields) {
             throw new IndexOutOfBoundsException("there is none such");
         }
         return sides[side].fieldValue(f, i);
@@ -404,8 +412,8 @@ public final class SourceBack {
             case 5:
                 int made = 0;
                 for (int f = 0; f < fileCount; f++) {
-                    findTexts(forms[f], 0, forms[f].members());
-                    findMade(forms[f]);
+                    findTexts(forms[f], 0, forms[f].members);
+                    findMade(f);
                     made += forms[f].made == null ? 0 : 1;
                 }
                 return made;
@@ -431,16 +439,26 @@ public final class SourceBack {
         sides[1].beginAnew(forms, fileCount);
     }
 
-    private void remember(int f, Form form) {
-        int from = f * UNDOS;
-        if (undoable[f] == UNDOS) {
-            for (int i = 1; i < UNDOS; i++) {
-                past[from + i - 1] = past[from + i];
-            }
-            undoable[f]--;
+    private Form keptAt(int place) {
+        if (kept[place] == null) {
+            kept[place] = new Form();
         }
-        past[from + undoable[f]] = form;
-        undoable[f]++;
+        return kept[place];
+    }
+
+    /** The form for what an edit makes of a file; if no more can be undone, the oldest one is filled again. */
+    private Form nextVersion(int f) {
+        int from = f * KEPT;
+        if (undoable[f] < UNDOS) {
+            undoable[f]++;
+        } else {
+            Form oldest = kept[from];
+            for (int i = 1; i <= UNDOS; i++) {
+                kept[from + i - 1] = kept[from + i];
+            }
+            kept[from + UNDOS] = oldest;
+        }
+        return keptAt(from + undoable[f]);
     }
 
     private void look(Form form, int m) {
@@ -463,8 +481,8 @@ public final class SourceBack {
             form.textKnown[m] = 1;
             look(form, m);
             if (flow.findsItsEntries() && write(form.memberEntry(m)) && printer.length <= SIGNS_MOST) {
-                byte[] signs = Arrays.copyOf(printer.out, printer.length);
-                form.texts[m] = judge.read(form, signs) == 0 ? signs : null;
+                boolean taken = judge.read(form, printer.out, printer.length) == 0;
+                form.texts[m] = taken ? Arrays.copyOf(printer.out, printer.length) : null;
             }
         }
     }
@@ -476,7 +494,7 @@ public final class SourceBack {
         }
         form.againKnown[m] = 1;
         form.again[m] = NONE;
-        if (signs == null || judge.read(form, signs) != 0) {
+        if (signs == null || judge.read(form, signs, signs.length) != 0) {
             return;
         }
         maker.askFound(form);
@@ -512,20 +530,21 @@ public final class SourceBack {
     }
 
     /** Asks that the texts of all members have been looked for. */
-    private void findMade(Form form) {
+    private void findMade(int f) {
+        Form form = forms[f];
         if (form.madeKnown) {
             return;
         }
         form.madeKnown = true;
-        for (int m = 0; m < form.members(); m++) {
+        for (int m = 0; m < form.members; m++) {
             if (form.texts[m] == null) {
                 return;
             }
         }
         seenMember = NONE;
         maker.beginFile(form);
-        for (int m = 0; m < form.members(); m++) {
-            if (judge.read(form, form.texts[m]) != 0) {
+        for (int m = 0; m < form.members; m++) {
+            if (judge.read(form, form.texts[m], form.texts[m].length) != 0) {
                 return;
             }
             maker.askFound(form);
@@ -538,8 +557,8 @@ public final class SourceBack {
             maker.assemble();
             maker.addMember(form, m);
         }
-        byte[] bytes = maker.madeFile(form);
-        Form made = new Form(bytes, bytes.length);
+        Form made = keptAt(f * KEPT + UNDOS + 1);
+        maker.fillMade(form, made);
         reader.read(made, ENTRIES_MADE);
         form.made = made;
     }
@@ -556,13 +575,17 @@ public final class SourceBack {
         return true;
     }
 
-    /** One file: its bytes, where its parts stand in them, and what has been made of it so far. */
+    /** One file: its bytes, where its parts stand in them, and what has been made of it so far. Its rows may be
+     * longer than what stands in them, as it is filled again when its file is no longer asked for. */
     private static final class Form {
-        final byte[] bytes;
+        byte[] bytes = new byte[0];
+        int size;
         int entryCount;
         int[] entryAt = new int[1];
         int nameAt;
+        int fields;
         int[] fieldEntry = new int[0];
+        int members;
         int[] memberAt = new int[0];
         byte[][] texts = new byte[0][];
         byte[] textKnown = new byte[0];
@@ -570,37 +593,72 @@ public final class SourceBack {
         int[] again = new int[0];
         boolean madeKnown;
         Form made;
+        /** The member that the latest edit changed. */
+        int edited;
 
-        Form(byte[] source, int length) {
-            bytes = Arrays.copyOf(source, length);
+        /** There are now so many bytes, of which nothing is known. */
+        void begin(int length) {
+            if (bytes.length < length) {
+                bytes = new byte[Math.max(length, bytes.length + bytes.length / 2)];
+            }
+            size = length;
+            entryCount = 0;
+            nameAt = 0;
+            fields = 0;
+            members = 0;
+            madeKnown = false;
+            made = null;
+        }
+
+        void setEntries(int n) {
+            entryCount = n;
+            if (entryAt.length <= n) {
+                entryAt = new int[Math.max(n + 1, entryAt.length + entryAt.length / 2)];
+            }
+        }
+
+        void setFields(int n) {
+            fields = n;
+            if (fieldEntry.length < n) {
+                fieldEntry = new int[n];
+            }
         }
 
         void setMembers(int n) {
-            memberAt = new int[n];
-            texts = new byte[n][];
-            textKnown = new byte[n];
-            againKnown = new byte[n];
-            again = new int[n];
+            members = n;
+            if (memberAt.length < n) {
+                memberAt = new int[n];
+                texts = new byte[n][];
+                textKnown = new byte[n];
+                againKnown = new byte[n];
+                again = new int[n];
+            }
+            for (int m = 0; m < n; m++) {
+                texts[m] = null;
+                textKnown[m] = 0;
+                againKnown[m] = 0;
+            }
         }
 
-        /** An edit of member m changes no other member's text: what is new comes behind what is found. */
-        void keepTexts(Form old, int m) {
-            for (int i = 0; i < memberAt.length && i < old.memberAt.length; i++) {
+        /** What is known of another version's members but m: neither an edit of m nor undoing it changes their
+         * texts, as what is new in the pool comes behind what is found. */
+        void learn(Form other, int m) {
+            for (int i = 0; i < members && i < other.members; i++) {
                 if (i != m) {
-                    texts[i] = old.texts[i];
-                    textKnown[i] = old.textKnown[i];
-                    againKnown[i] = old.againKnown[i];
-                    again[i] = old.again[i];
+                    texts[i] = other.texts[i];
+                    textKnown[i] = other.textKnown[i];
+                    againKnown[i] = other.againKnown[i];
+                    again[i] = other.again[i];
                 }
             }
         }
 
         int u1(int i) {
-            return i >= 0 && i < bytes.length ? bytes[i] & 255 : 0;
+            return i >= 0 && i < size ? bytes[i] & 255 : 0;
         }
 
         int u2(int i) {
-            return i >= 0 && i + 1 < bytes.length ? (bytes[i] & 255) << 8 | bytes[i + 1] & 255 : 0;
+            return i >= 0 && i + 1 < size ? (bytes[i] & 255) << 8 | bytes[i + 1] & 255 : 0;
         }
 
         int s4(int i) {
@@ -608,11 +666,12 @@ public final class SourceBack {
         }
 
         int place(int k) {
-            return k >= 1 && k < entryAt.length ? entryAt[k] : NONE;
+            return k >= 1 && k <= entryCount ? entryAt[k] : NONE;
         }
 
         int tag(int k) {
-            return k >= 1 && k < entryAt.length ? bytes[entryAt[k]] : 0;
+            int at = k >= 1 && k <= entryCount ? entryAt[k] : NONE;
+            return at >= 0 && at < size ? bytes[at] : 0;
         }
 
         int owner(int k) {
@@ -667,10 +726,6 @@ public final class SourceBack {
 
         int fileName() {
             return u2(nameAt);
-        }
-
-        int members() {
-            return memberAt.length;
         }
 
         int memberEntry(int m) {
@@ -794,14 +849,14 @@ public final class SourceBack {
             return op < SIZES.length ? SIZES[op] : 1;
         }
 
-        /** Whether NAME k stands as a whole word at a place of some text. */
-        boolean sameWord(int k, byte[] words, int from) {
-            if (k < 1 || k >= entryAt.length) {
+        /** Whether NAME k stands as a whole word at a place of some text with so many signs. */
+        boolean sameWord(int k, byte[] words, int signs, int from) {
+            if (k < 1 || k > entryCount) {
                 return false;
             }
             int at = entryAt[k] + 2;
-            int n = at <= bytes.length ? bytes[at - 1] & 255 : 0;
-            if (from < 0 || from + n > words.length || at + n > bytes.length) {
+            int n = at <= size ? bytes[at - 1] & 255 : 0;
+            if (from < 0 || from + n > signs || at + n > size) {
                 return false;
             }
             for (int i = 0; i < n; i++) {
@@ -809,21 +864,22 @@ public final class SourceBack {
                     return false;
                 }
             }
-            int c = from + n < words.length ? words[from + n] & 255 : ' ';
+            int c = from + n < signs ? words[from + n] & 255 : ' ';
             return !(c >= 'a' && c <= 'z' || c >= 'A' && c <= 'Z' || c >= '0' && c <= '9' || c == '_');
         }
 
         /** The entry of the field with these words for owner and name, 0 without. */
-        int findField(byte[] words, int owner, int name) {
-            if (sameWord(fileName(), words, owner)) {
-                for (int i = 0; i < fieldEntry.length; i++) {
-                    if (sameWord(nameOf(fieldEntry[i]), words, name)) {
+        int findField(byte[] words, int signs, int owner, int name) {
+            if (sameWord(fileName(), words, signs, owner)) {
+                for (int i = 0; i < fields; i++) {
+                    if (sameWord(nameOf(fieldEntry[i]), words, signs, name)) {
                         return fieldEntry[i];
                     }
                 }
             }
             for (int k = 1; k <= entryCount; k++) {
-                if (tag(k) == FIELD && sameWord(nameOf(k), words, name) && sameWord(owner(k), words, owner)) {
+                if (tag(k) == FIELD && sameWord(nameOf(k), words, signs, name)
+                        && sameWord(owner(k), words, signs, owner)) {
                     return k;
                 }
             }
@@ -831,18 +887,18 @@ public final class SourceBack {
         }
 
         /** The entry of the member with these words and n parameters of these kinds, 0 without. */
-        int findMember(byte[] words, int owner, int name, int n, int bits) {
-            if (sameWord(fileName(), words, owner)) {
-                for (int m = 0; m < memberAt.length; m++) {
+        int findMember(byte[] words, int signs, int owner, int name, int n, int bits) {
+            if (sameWord(fileName(), words, signs, owner)) {
+                for (int m = 0; m < members; m++) {
                     int k = memberEntry(m);
-                    if (hasParameters(signOf(k), n, bits) && sameWord(nameOf(k), words, name)) {
+                    if (hasParameters(signOf(k), n, bits) && sameWord(nameOf(k), words, signs, name)) {
                         return k;
                     }
                 }
             }
             for (int k = 1; k <= entryCount; k++) {
                 if (tag(k) == MEMBER && hasParameters(signOf(k), n, bits)
-                        && sameWord(nameOf(k), words, name) && sameWord(owner(k), words, owner)) {
+                        && sameWord(nameOf(k), words, signs, name) && sameWord(owner(k), words, signs, owner)) {
                     return k;
                 }
             }
@@ -860,7 +916,7 @@ public final class SourceBack {
 
         /** This form's own member with the name and parameters (and result) of another form's entry. */
         int memberLike(Form other, int j, boolean withResult) {
-            for (int m = 0; m < memberAt.length; m++) {
+            for (int m = 0; m < members; m++) {
                 int k = memberEntry(m);
                 if (sameName(nameOf(k), other, other.nameOf(j)) && sameParameters(signOf(k), other, other.signOf(j))) {
                     boolean fits = !withResult || result(signOf(k)) == other.result(other.signOf(j));
@@ -872,7 +928,7 @@ public final class SourceBack {
 
         /** This form's own field with the name and kind of another form's entry. */
         int fieldLike(Form other, int j) {
-            for (int i = 0; i < fieldEntry.length; i++) {
+            for (int i = 0; i < fields; i++) {
                 int k = fieldEntry[i];
                 if (sameName(nameOf(k), other, other.nameOf(j)) && fieldKind(k) == other.fieldKind(j)) {
                     return i;
@@ -911,7 +967,7 @@ public final class SourceBack {
                 form.memberAt[m] = at;
                 readMember(m);
             }
-            if (fault == 0 && at < form.bytes.length) {
+            if (fault == 0 && at < form.size) {
                 tell(15, at);
             }
             return fault;
@@ -927,8 +983,8 @@ public final class SourceBack {
             if (fault != 0) {
                 return 0;
             }
-            if (at + n > form.bytes.length) {
-                tell(1, form.bytes.length);
+            if (at + n > form.size) {
+                tell(1, form.size);
                 return 0;
             }
             int value = 0;
@@ -955,8 +1011,7 @@ public final class SourceBack {
             bounded(2, 3, 1, 9);
             int entries = bounded(2, 4, 1, entriesMost);
             if (fault == 0) {
-                form.entryCount = entries;
-                form.entryAt = new int[entries + 1];
+                form.setEntries(entries);
             }
         }
 
@@ -1050,7 +1105,7 @@ public final class SourceBack {
             if (fault != 0) {
                 return;
             }
-            form.fieldEntry = new int[n];
+            form.setFields(n);
             for (int i = 0; fault == 0 && i < n; i++) {
                 int place = at;
                 int k = asking(FIELD);
@@ -1088,7 +1143,7 @@ public final class SourceBack {
         }
 
         private void readAct(int end, int locals) {
-            int length = form.bytes.length;
+            int length = form.size;
             if (at >= length) {
                 tell(1, length);
                 return;
@@ -1187,7 +1242,7 @@ public final class SourceBack {
 
         private void scan() {
             if (index.length <= length) {
-                int room = Math.max(length + 1, 2 * index.length);
+                int room = Math.max(length + 1, Math.min(2 * index.length, CODE_MOST + 1));
                 at = new int[room];
                 index = new int[room];
                 deep = new int[room];
@@ -1466,11 +1521,11 @@ public final class SourceBack {
                 if (op == CALL) {
                     int signed = form.signOf(k);
                     int bits = form.parameterBits(signed);
-                    int found = form.findMember(form.bytes, owner, name, form.length(signed), bits);
+                    int found = form.findMember(form.bytes, form.size, owner, name, form.length(signed), bits);
                     if (form.result(form.signOf(found)) != form.result(signed)) {
                         return false;
                     }
-                } else if (form.fieldKind(form.findField(form.bytes, owner, name)) != form.fieldKind(k)) {
+                } else if (form.fieldKind(form.findField(form.bytes, form.size, owner, name)) != form.fieldKind(k)) {
                     return false;
                 }
             }
@@ -1524,7 +1579,7 @@ public final class SourceBack {
             if (begins.length >= needed) {
                 return;
             }
-            int room = Math.max(needed, 2 * begins.length);
+            int room = Math.max(needed, Math.min(2 * begins.length, CODE_MOST + 2));
             begins = new int[room];
             holder = new int[room];
             first = new int[room];
@@ -1751,12 +1806,13 @@ public final class SourceBack {
         static final int LIST = 36;
 
         private static final int WIDTH = 8;
-        private int[] row = new int[WIDTH];
+        private int[] row = new int[WIDTH * 16];
         private int nodes;
 
-        void begin(int most) {
-            if (row.length < WIDTH * (most + 1)) {
-                row = new int[Math.max(WIDTH * (most + 1), 2 * row.length)];
+        /** Few members have more nodes than the guess; rows that grow step by step would be longer in all. */
+        void begin(int guess) {
+            if (row.length < WIDTH * guess) {
+                row = new int[Math.max(WIDTH * guess, 2 * row.length)];
             }
             nodes = 1;
         }
@@ -1764,7 +1820,7 @@ public final class SourceBack {
         int make(int kind, int a, int b, int c) {
             int at = WIDTH * nodes;
             if (at + WIDTH > row.length) {
-                return 0;
+                row = Arrays.copyOf(row, 2 * row.length);
             }
             row[at] = kind;
             row[at + 1] = a;
@@ -2106,7 +2162,8 @@ public final class SourceBack {
         private void begin(Flow from, Blocks of) {
             flow = from;
             blocks = of;
-            makeRoom();
+            makeRoom(blocks.count);
+            nodes.begin(3 * flow.acts + 8 * blocks.count + 4 * blocks.allWays());
             numbers = 0;
             arrays = 0;
             numberTemporaries = 0;
@@ -2132,11 +2189,7 @@ public final class SourceBack {
             return tooDeep ? 0 : root;
         }
 
-        private void makeRoom() {
-            int n = blocks.count;
-            // An act makes a term, a temporary with its statement, an argument, a statement and its target at most;
-            // a block its loop, block, if or switch with their lists, and what its value comes from and goes to.
-            nodes.begin(6 * flow.acts + 18 * n + 7 * blocks.allWays() + 3 * Math.min(flow.acts, 120) + 20);
+        private void makeRoom(int n) {
             if (blockNode.length < n) {
                 int room = Math.max(n, 2 * blockNode.length);
                 blockNode = new int[room];
@@ -2861,19 +2914,22 @@ public final class SourceBack {
         private static final String SIGNS = "(){}[],;:.=<>+-*/%&|^";
 
         byte[] text = new byte[0];
+        /** How many signs of that row are the text. */
+        int length;
         /** A sign's type is its character, if it has only one. */
         int type;
         int start;
         int stop;
 
-        void begin(byte[] read) {
+        void begin(byte[] read, int signs) {
             text = read;
+            length = Math.min(signs, read.length);
             stop = 0;
             advance();
         }
 
         void advance() {
-            int end = text.length;
+            int end = length;
             int p = stop;
             while (p < end && (text[p] == ' ' || text[p] == '\n')) {
                 p++;
@@ -2899,22 +2955,22 @@ public final class SourceBack {
         }
 
         private boolean isWordSign(int p) {
-            if (p >= text.length) {
+            if (p >= length) {
                 return false;
             }
             int c = text[p];
             return c >= 'a' && c <= 'z' || c >= 'A' && c <= 'Z' || c >= '0' && c <= '9' || c == '_';
         }
 
-        private int wordType(int length) {
+        private int wordType(int signs) {
             int word = 0;
             int from = 0;
             for (int i = 0; i < LANGUAGE.length(); i++) {
                 if (LANGUAGE.charAt(i) != ' ') {
                     continue;
                 }
-                boolean same = i - from == length;
-                for (int k = 0; same && k < length; k++) {
+                boolean same = i - from == signs;
+                for (int k = 0; same && k < signs; k++) {
                     same = LANGUAGE.charAt(from + k) == text[start + k];
                 }
                 if (same) {
@@ -2945,7 +3001,7 @@ public final class SourceBack {
 
         /** Whether the token is a - with a digit directly behind it. */
         boolean isMinusOfDigits() {
-            return type == '-' && stop < text.length && text[stop] >= '0' && text[stop] <= '9';
+            return type == '-' && stop < length && text[stop] >= '0' && text[stop] <= '9';
         }
 
         /** Whether the words that begin at two places are the same. */
@@ -3309,10 +3365,10 @@ public final class SourceBack {
             beginPool();
             bodyLength = 0;
             poolPlain(form, form.fileName());
-            for (int i = 0; i < form.fieldEntry.length; i++) {
+            for (int i = 0; i < form.fields; i++) {
                 poolField(form, form.fieldEntry[i]);
             }
-            for (int m = 0; m < form.members(); m++) {
+            for (int m = 0; m < form.members; m++) {
                 poolMember(form, form.memberEntry(m));
             }
         }
@@ -3340,9 +3396,11 @@ public final class SourceBack {
             into[at + 1] = (byte) value;
         }
 
-        byte[] madeFile(Form form) {
-            int fields = form.fieldEntry.length;
-            byte[] bytes = new byte[8 + poolLength + 6 + 2 * fields + bodyLength];
+        /** The file that was made of a form's texts. */
+        void fillMade(Form form, Form made) {
+            int fields = form.fields;
+            made.begin(8 + poolLength + 6 + 2 * fields + bodyLength);
+            byte[] bytes = made.bytes;
             System.arraycopy(form.bytes, 0, bytes, 0, 6);
             putPair(bytes, 6, entryCount);
             System.arraycopy(pool, 0, bytes, 8, poolLength);
@@ -3353,25 +3411,24 @@ public final class SourceBack {
             for (int i = 0; i < fields; i++) {
                 putPair(bytes, at + 4 + 2 * i, poolField(form, form.fieldEntry[i]));
             }
-            putPair(bytes, at + 4 + 2 * fields, form.members());
+            putPair(bytes, at + 4 + 2 * fields, form.members);
             System.arraycopy(bodies, 0, bytes, at + 6 + 2 * fields, bodyLength);
-            return bytes;
         }
 
-        /** The bytes of a file with the assembled member in the place of its member m. */
-        byte[] editedFile(Form form, int m) {
+        /** A file with the assembled member in the place of its member m. */
+        void fillEdited(Form form, int m, Form edited) {
             byte[] old = form.bytes;
             int start = form.memberAt[m];
             int behind = form.codeAt(m) + form.codeLength(m);
-            byte[] bytes = new byte[old.length + poolLength + codeLength - form.codeLength(m)];
+            edited.begin(form.size + poolLength + codeLength - form.codeLength(m));
+            byte[] bytes = edited.bytes;
             System.arraycopy(old, 0, bytes, 0, form.nameAt);
             putPair(bytes, 6, form.entryCount + entryCount);
             System.arraycopy(pool, 0, bytes, form.nameAt, poolLength);
             System.arraycopy(old, form.nameAt, bytes, form.nameAt + poolLength, start - form.nameAt);
             putBody(bytes, start + poolLength, form.memberEntry(m));
             int at = start + poolLength + 6 + codeLength;
-            System.arraycopy(old, behind, bytes, at, old.length - behind);
-            return bytes;
+            System.arraycopy(old, behind, bytes, at, form.size - behind);
         }
     }
 
@@ -3472,7 +3529,7 @@ public final class SourceBack {
         }
 
         /** 0, or the error + 16 * its place. */
-        int read(Form file, byte[] text) {
+        int read(Form file, byte[] text, int length) {
             form = file;
             fault = 0;
             state = STATEMENT;
@@ -3481,7 +3538,7 @@ public final class SourceBack {
             open = 0;
             variables = 0;
             maker.begin();
-            tokens.begin(text);
+            tokens.begin(text, length);
             try {
                 readHead();
                 readDeclared();
@@ -3499,7 +3556,7 @@ public final class SourceBack {
             for (int i = 0; i < parameters; i++) {
                 bits |= (told[i] & 1) << i;
             }
-            return form.sameWord(form.nameOf(k), tokens.text, nameAt) && result == form.result(sign)
+            return form.sameWord(form.nameOf(k), tokens.text, tokens.length, nameAt) && result == form.result(sign)
                     && form.hasParameters(sign, parameters, bits);
         }
 
@@ -4031,7 +4088,7 @@ public final class SourceBack {
                 tokens.advance();
                 state = tokens.type == ')' ? CALLED : TERM;
             } else {
-                int entry = form.findField(tokens.text, place, name);
+                int entry = form.findField(tokens.text, tokens.length, place, name);
                 if (entry == 0) {
                     refuse(4, place);
                 }
@@ -4121,7 +4178,7 @@ public final class SourceBack {
         /** At the ) of a call. */
         private void closeCall() {
             int place = topIs(1);
-            int entry = form.findMember(tokens.text, place, topIs(2), topIs(3), topIs(4));
+            int entry = form.findMember(tokens.text, tokens.length, place, topIs(2), topIs(3), topIs(4));
             if (entry == 0) {
                 refuse(4, place);
             }
@@ -4287,7 +4344,7 @@ public final class SourceBack {
             files = count;
             for (int f = 0; f < count; f++) {
                 Form form = current[f];
-                int n = form.fieldEntry.length;
+                int n = form.fields;
                 forms[f] = form;
                 if (fields[f] == null || fields[f].length != n) {
                     fields[f] = new long[n];
